@@ -65,16 +65,14 @@ public final class RubatoDesk {
     private final int[] firstGlad = new int[STORES];
 
     public RubatoDesk() {
-        for (int i = 0; i < sheets.length; i++) {
-            sheets[i] = new Sheet();
-        }
         for (int i = 0; i < IMAGES; i++) {
             imageStates[i] = new State();
         }
         for (int i = 0; i < TRAYS; i++) {
             trays[i] = new Tray();
         }
-        sheet = sheets[0];
+        sheet = new Sheet();
+        sheets[0] = sheet;
         playing = new Bars(sheet);
         course = new Course(playing);
         ways = new Ways(playing);
@@ -667,6 +665,9 @@ public final class RubatoDesk {
     /** A text is read beside THE DESK, for with a FAULT all stays; IMAGES share their sheets, so none is copied. */
     private Sheet spareSheet() {
         for (int i = 0; i < sheets.length; i++) {
+            if (sheets[i] == null) {
+                sheets[i] = new Sheet();
+            }
             Sheet spare = sheets[i];
             if (spare != sheet && spare != imageSheets[0] && spare != imageSheets[1]) {
                 return spare;
@@ -1469,7 +1470,6 @@ public final class RubatoDesk {
      * kept; what was kept for another one, or another desk, is told apart by its stamp and need not be wiped.
      */
     private static final class Bars {
-        private static final int CELLS = MOST_BARS * STATES * DRAWS;
         private static final int NO_KEY = -1;
 
         int length = 0;
@@ -1518,8 +1518,9 @@ public final class RubatoDesk {
             seen[Reader.WHO] = who;
             seen[Reader.TEMPER] = temper;
             seen[Reader.PIECE] = piece;
-            if (cells[piece] == null) {
-                cells[piece] = new long[CELLS];
+            int needed = cellOf(MOST_BARS, -MOST_STORE, -MOST_DRAW, -MOST_DRAW);
+            if (cells[piece] == null || cells[piece].length < needed) {
+                cells[piece] = new long[needed];
             }
             int key = (byWho ? who : 0) * (MOST_TEMPER + 1) + (byTemper ? temper : 0);
             if (keys[piece] != key) {
@@ -1539,8 +1540,7 @@ public final class RubatoDesk {
         /** How GLAD a BAR makes the one before it, NOT if it may not be DRAWN out so. */
         int gladAt(int bar, int store, int last, int draw) {
             int behind = store - draw;
-            int state = placeOf(byStore ? store : 0, byLast ? last : 0);
-            int cell = (bar * STATES + state) * DRAWS + draw + MOST_DRAW;
+            int cell = cellOf(bar, store, last, draw);
             if (behind < -MOST_STORE || behind > MOST_STORE || cell < 0 || cell >= known.length) {
                 return NOT;
             }
@@ -1557,6 +1557,18 @@ public final class RubatoDesk {
             }
             known[cell] = (long) stamp << 32 | gladness & 0xFFFFFFFFL;
             return gladness;
+        }
+
+        /** What the laws don't ask for needs no cells of its own. */
+        private int cellOf(int bar, int store, int last, int draw) {
+            int cell = bar;
+            if (byStore) {
+                cell = cell * STORES + store + MOST_STORE;
+            }
+            if (byLast) {
+                cell = cell * DRAWS + last + MOST_DRAW;
+            }
+            return cell * DRAWS + draw + MOST_DRAW;
         }
 
         private void see(int bar, int store, int last, int draw) {
@@ -1593,6 +1605,14 @@ public final class RubatoDesk {
 
         static int placeOf(int store, int last) {
             return (store + MOST_STORE) * DRAWS + last + MOST_DRAW;
+        }
+
+        static int storeOf(int place) {
+            return place / DRAWS - MOST_STORE;
+        }
+
+        static int lastOf(int place) {
+            return place % DRAWS - MOST_DRAW;
         }
     }
 
@@ -1667,18 +1687,16 @@ public final class RubatoDesk {
 
         private void slipAt(int bar) {
             Arrays.fill(behind, 0);
-            int lasts = playing.lastsAt(bar);
-            for (int store = -MOST_STORE; store <= MOST_STORE; store++) {
-                for (int last = -lasts; last <= lasts; last++) {
-                    long chances = here[Bars.placeOf(store, last)];
-                    int draw = chances == 0 ? NOT_PLAYED : playing.comingDraw(bar, store, last);
-                    if (draw != NOT_PLAYED) {
-                        boolean more = draw < MOST_DRAW && playing.gladAt(bar, store, last, draw + 1) != NOT;
-                        int slip = more ? draw + 1 : draw;
-                        int slips = playing.sheet.slips;
-                        behind[Bars.placeOf(store - draw, playing.lastBehind(draw))] += chances * (10 - slips);
-                        behind[Bars.placeOf(store - slip, playing.lastBehind(slip))] += chances * slips;
-                    }
+            int slips = playing.sheet.slips;
+            for (int place = 0; place < STATES; place++) {
+                int store = Bars.storeOf(place);
+                int last = Bars.lastOf(place);
+                int draw = here[place] == 0 ? NOT_PLAYED : playing.comingDraw(bar, store, last);
+                if (draw != NOT_PLAYED) {
+                    boolean more = draw < MOST_DRAW && playing.gladAt(bar, store, last, draw + 1) != NOT;
+                    int slip = more ? draw + 1 : draw;
+                    behind[Bars.placeOf(store - draw, playing.lastBehind(draw))] += here[place] * (10 - slips);
+                    behind[Bars.placeOf(store - slip, playing.lastBehind(slip))] += here[place] * slips;
                 }
             }
             long[] swapped = here;
@@ -1790,28 +1808,20 @@ public final class RubatoDesk {
 
         private void spreadBar(int bar) {
             Arrays.fill(behind, NOT);
-            int lasts = playing.lastsAt(bar);
-            for (int store = -MOST_STORE; store <= MOST_STORE; store++) {
-                for (int last = -lasts; last <= lasts; last++) {
-                    int before = here[Bars.placeOf(store, last)];
-                    if (before != NOT) {
-                        spreadFrom(bar, store, last, before);
+            for (int place = 0; place < STATES; place++) {
+                int store = Bars.storeOf(place);
+                int last = Bars.lastOf(place);
+                for (int draw = -MOST_DRAW; draw <= MOST_DRAW && here[place] != NOT; draw++) {
+                    int own = playing.gladAt(bar, store, last, draw);
+                    if (own != NOT) {
+                        int then = Bars.placeOf(store - draw, playing.lastBehind(draw));
+                        behind[then] = Math.max(behind[then], here[place] + own);
                     }
                 }
             }
             int[] swapped = here;
             here = behind;
             behind = swapped;
-        }
-
-        private void spreadFrom(int bar, int store, int last, int before) {
-            for (int draw = -MOST_DRAW; draw <= MOST_DRAW; draw++) {
-                int own = playing.gladAt(bar, store, last, draw);
-                if (own != NOT) {
-                    int place = Bars.placeOf(store - draw, playing.lastBehind(draw));
-                    behind[place] = Math.max(behind[place], before + own);
-                }
-            }
         }
 
         /** ROWS by allowed draws alone behind which the STORE is so much, or any. */
@@ -1823,7 +1833,7 @@ public final class RubatoDesk {
             }
             long all = 0;
             for (int place = 0; place < STATES; place++) {
-                if (endAsked == ANY_END || place / DRAWS == endAsked + MOST_STORE) {
+                if (endAsked == ANY_END || Bars.storeOf(place) == endAsked) {
                     all += rowsHere[place];
                 }
             }
@@ -1832,27 +1842,18 @@ public final class RubatoDesk {
 
         private void countBar(int bar, int allowed) {
             Arrays.fill(rowsBehind, 0);
-            int lasts = playing.lastsAt(bar);
-            for (int store = -MOST_STORE; store <= MOST_STORE; store++) {
-                for (int last = -lasts; last <= lasts; last++) {
-                    long before = rowsHere[Bars.placeOf(store, last)];
-                    if (before != 0) {
-                        countFrom(bar, store, last, allowed);
+            for (int place = 0; place < STATES; place++) {
+                int store = Bars.storeOf(place);
+                int last = Bars.lastOf(place);
+                for (int draw = -MOST_DRAW; draw <= MOST_DRAW && rowsHere[place] != 0; draw++) {
+                    if ((allowed & bitOf(draw)) != 0 && playing.gladAt(bar, store, last, draw) != NOT) {
+                        rowsBehind[Bars.placeOf(store - draw, playing.lastBehind(draw))] += rowsHere[place];
                     }
                 }
             }
             long[] swapped = rowsHere;
             rowsHere = rowsBehind;
             rowsBehind = swapped;
-        }
-
-        private void countFrom(int bar, int store, int last, int allowed) {
-            long before = rowsHere[Bars.placeOf(store, last)];
-            for (int draw = -MOST_DRAW; draw <= MOST_DRAW; draw++) {
-                if ((allowed & bitOf(draw)) != 0 && playing.gladAt(bar, store, last, draw) != NOT) {
-                    rowsBehind[Bars.placeOf(store - draw, playing.lastBehind(draw))] += before;
-                }
-            }
         }
     }
 
