@@ -1727,9 +1727,9 @@ public final class RubatoDesk {
         /** The greatest GLADNESS from each BAR on to a STORE of the GOAL at least, begun with STORES low to high. */
         void settle(int low, int high, int goal, int[] allowed) {
             int bars = Math.min(playing.length, MOST_BARS);
-            int ends = bars * STATES;
-            Arrays.fill(most, ends, ends + STATES, NOT);
-            Arrays.fill(most, ends + Bars.placeOf(goal, -MOST_DRAW), ends + STATES, 0);
+            for (int place = 0; place < STATES; place++) {
+                most[bars * STATES + place] = Bars.storeOf(place) >= goal ? 0 : NOT;
+            }
             for (int bar = bars - 1; bar >= 0; bar--) {
                 int lasts = playing.lastsAt(bar);
                 int lowest = Math.max(-MOST_STORE, low - bar * MOST_DRAW);

@@ -94,6 +94,8 @@ public final class PromiseTests {
     promises38And39();
     promise40();
     longPieces();
+    longLaw();
+    whoAndTemper();
     manyCalls();
     System.out.println(checked + " answers checked, " + wrong + " are not as due");
     if (wrong != 0) System.exit(1);
@@ -689,6 +691,7 @@ public final class PromiseTests {
     due("no player first", x.least(3, 0, 21, 0), NO_SUCH);
     due("no piece", x.least(0, 3, 0, 0), NO_SUCH);
     due("no bars", x.least(0, 2, 7, 0), 7);
+    due("20", told("desk;piece up 1;player;may : store = 20;").least(0, 0, -20, 0), 20);
     due("no rows at all", told("desk;piece up 1;player;may : 1 = 2;").least(0, 0, -20, Integer.MIN_VALUE), NO_ROW);
     promise = "23 squarest";
     due("squarest", x.squarest(0, 0), 4);
@@ -752,6 +755,9 @@ public final class PromiseTests {
     due("only the other way round", x.mostPieces(0, -20), 3);
     due("only the other way round", x.order(0, 3, -20, 10), 1);
     due("alone", x.order(0, 1, -20, 10), NO_ROW);
+    x = told("desk;piece up 1;piece up 1;player owes 17;may : draw > 0 and not draw = 1 + piece;");
+    due("to the very bound", x.mostPieces(0, -20), 3);
+    due("not beyond", x.mostPieces(0, -19), 1);
   }
 
   private static void promise26() {
@@ -784,7 +790,9 @@ public final class PromiseTests {
     due("no player", x.lends(0, 0, -1, 0), NO_SUCH);
     due("no piece", x.lends(0, 3, 1, 0), NO_SUCH);
     due("no piece", x.lends(0, 0, 1, 3), NO_SUCH);
-    due("40", told("desk;piece;player has 20;player owes 20;may : 1 = 1;").lends(0, 0, 1, 0), 20);
+    due("20", told("desk;piece;player has 20;player owes 20;may : 1 = 1;").lends(0, 0, 1, 0), 20);
+    x = told("desk;piece up 1 up 1 up 1 up 1 up 1 up 1 up 1 up 1 up 1 up 1 up 1 up 1;piece up 1;player has 20;player owes 20;glad : who * store;");
+    due("40", x.lends(0, 0, 1, 1), 40);
   }
 
   private static void promise28() {
@@ -1123,6 +1131,37 @@ public final class PromiseTests {
     due("mostPieces", x.mostPieces(0, 20), 15);
     due("who owes can't draw out first", x.order(1, 15, -20, 0), 864 - 18);
     due("the store's bounds", x.rows(1, 0, -20) < ways[24] ? 1 : 0, 1);
+  }
+
+  private static void longLaw() {
+    promise = "3 a text of 900 bytes";
+    StringBuilder b = new StringBuilder("desk;piece up 1;player;glad:1");
+    while (b.length() < 899) b.append(b.length() % 2 == 1 ? '+' : '1');
+    String text = b.append(';').toString();
+    RubatoDesk x = new RubatoDesk();
+    due("900 bytes fed", feedText(x, text), 900);
+    due("900 bytes", x.desk(900), 4);
+    due("all of it", x.glad(0, 0, 0, 0, 0), 1 + (899 - 29) / 2);
+    due("the last sign", tell(x, text.substring(0, 899) + "?"), FAULT - 1);
+    due("its place", x.fault(1), 899);
+    due("the end", tell(x, text.substring(0, 899) + " "), FAULT - 2);
+    due("its place", x.fault(1), 900);
+    due("signs alone", tell(x, ";".repeat(900)), FAULT - 2);
+    due("their place", x.fault(1), 0);
+  }
+
+  /** What a law said of one player or temper is never taken for another one's. */
+  private static void whoAndTemper() {
+    promise = "19 who and temper";
+    RubatoDesk x = told("desk;piece up 1;player;player;player;player;player;glad : (who * 10 + temper) * draw;");
+    for (int a = 0; a < 50; a++) {
+      for (int b = 0; b < 50; b++) {
+        for (int k : new int[] {a, b}) {
+          x.temper(k / 10, k % 10);
+          due("best of " + k, x.best(k / 10, 0, -20, 0), 2 * k);
+        }
+      }
+    }
   }
 
   /** No call may throw, whatever it is given; a run of 512 calls makes next to nothing. */
