@@ -61,8 +61,9 @@ public final class RubatoDesk {
     private final Ways ways;
     private final Orders orders;
     private final Deeds deeds;
+    /** Rows that several calls use again, so that no call makes one: which draws a BAR may have, a number by STORE. */
     private final int[] someDraws = new int[MOST_BARS];
-    private final int[] firstGlad = new int[STORES];
+    private final int[] storeRow = new int[STORES];
 
     public RubatoDesk() {
         for (int i = 0; i < IMAGES; i++) {
@@ -417,14 +418,14 @@ public final class RubatoDesk {
         takeUp(p, piece);
         ways.settle(-MOST_STORE, own, 0, ways.every);
         for (int store = -MOST_STORE; store <= own; store++) {
-            firstGlad[store + MOST_STORE] = ways.mostFrom(store);
+            storeRow[store + MOST_STORE] = ways.mostFrom(store);
         }
         takeUp(q, other);
         ways.settle(others, MOST_STORE, 0, ways.every);
         int found = NONE;
         int most = NOT;
         for (int ticks = 0; own - ticks >= -MOST_STORE && others + ticks <= MOST_STORE; ticks++) {
-            int first = firstGlad[own - ticks + MOST_STORE];
+            int first = storeRow[own - ticks + MOST_STORE];
             int second = ways.mostFrom(others + ticks);
             if (first != NOT && second != NOT && first + second > most) {
                 most = first + second;
@@ -719,10 +720,10 @@ public final class RubatoDesk {
     /** The greatest GLADNESS of the ROWS from the STORE of now, by the STORE behind them. */
     private int[] endsOf(int p, int piece) {
         takeUp(p, piece);
-        Arrays.fill(firstGlad, NOT);
-        firstGlad[now.stores[p] + MOST_STORE] = 0;
-        ways.spread(firstGlad, firstGlad);
-        return firstGlad;
+        Arrays.fill(storeRow, NOT);
+        storeRow[now.stores[p] + MOST_STORE] = 0;
+        ways.spread(storeRow, storeRow);
+        return storeRow;
     }
 
     /** The code by which it is refused, or 0: then someDraws tells what each BAR may have been DRAWN out by. */
@@ -764,14 +765,14 @@ public final class RubatoDesk {
 
     /** How many of a set of tempers one can't tell apart by the STORE behind a PIECE, where they are most. */
     private int mostAlike(int p, int piece, int set) {
-        Arrays.fill(firstGlad, 0);
+        Arrays.fill(storeRow, 0);
         int most = 0;
         for (int temper = 0; temper <= MOST_TEMPER; temper++) {
             if ((set >> temper & 1) != 0) {
                 playing.takeUp(p, temper, piece);
                 course.run(now.stores[p]);
-                firstGlad[course.end + MOST_STORE]++;
-                most = Math.max(most, firstGlad[course.end + MOST_STORE]);
+                storeRow[course.end + MOST_STORE]++;
+                most = Math.max(most, storeRow[course.end + MOST_STORE]);
             }
         }
         return most;
