@@ -351,4 +351,455 @@ public final class TermsBoundaryTests {
         Book.told("desk;piece up 1 up 1;player;glad:last*store*999;glad:draw;may:last=9;may:draw<2;").best(0, 0, -20, 0), 2);
     due("all are lines", Book.told("desk;glad:1;glad:2;may:1=1;may:1=2;slips 1;slips 2;").count(10), 7);
   }
+
+  /** "TOKENS, as long as they go on": a word and a number end where their signs end, not ahead of that. */
+  static void terms1TokensGoOnAsLongAsTheyCan() {
+    Book.faulty("desks;", 2, 0);
+    Book.faulty("deskpiece;", 2, 0);
+    Book.faulty("desk;pieceup 1;", 2, 5);
+    Book.faulty("desk;piece upup 1;", 2, 11);
+    Book.faulty("desk;may:notnot 1=1;", 2, 9);
+    Book.faulty("desk;may:not1=1or1=1 orr 1=1;", 2, 21);
+    Book.faulty("desk;slips 1 0;", 2, 13);
+    due("two digits are one number", Book.told("desk;slips 10;").count(7), 10);
+    due("three digits are one number", Book.told("desk;slips 010;").count(7), 10);
+    Book.right("desk;piece up3down9up0;player has20owes0temper9;slips10;may:not1=1or2=2and3=3;", 5);
+  }
+
+  /** "between them blanks (10, 32)": these two, none or many, and no other sign. */
+  static void terms1Blanks() {
+    Book.right("desk;piece up 1;", 2);
+    Book.right("\ndesk\n;\npiece\nup\n1\n;\n", 2);
+    Book.right("  \n\n desk \n ;  piece  up \n 1 ;  \n", 2);
+    for (int sign : new int[] {0, 9, 11, 12, 13, 31, 33, 127, 128, 160, 255}) {
+      Book.faulty((char) sign + "desk;", 1, 0);
+      Book.faulty("desk" + (char) sign + ";", 1, 4);
+      Book.faulty("desk;" + (char) sign, 1, 5);
+      Book.faulty("desk;piece" + (char) sign + "up 1;", 1, 10);
+    }
+  }
+
+  /** "words (small letters), N (1 to 3 digits), the signs": of all bytes just these begin a TOKEN. */
+  static void terms1WhatBeginsAToken() {
+    for (int sign = 0; sign < 256; sign++) {
+      boolean token = sign >= 'a' && sign <= 'z' || sign >= '0' && sign <= '9' || ";:+-*()[]=<>".indexOf(sign) >= 0;
+      if (sign == 10 || sign == 32) Book.right("desk;" + (char) sign, 1);
+      else Book.faulty("desk;" + (char) sign, token ? 2 : 1, 5);
+      boolean ends = !(sign >= 'a' && sign <= 'z');
+      if (sign != 10 && sign != 32 && ends) Book.faulty("desk" + (char) sign + "x", token ? 2 : 1, sign == ';' ? 5 : 4);
+    }
+    Book.faulty("desk;Piece;", 1, 5);
+    Book.faulty("desk;pieCe;", 2, 5);
+    Book.faulty("Desk;", 1, 0);
+  }
+
+  /** "1 no TOKEN begins so (4 digits and more: at their first)" */
+  static void terms1FourDigits() {
+    for (String n : new String[] {"0", "00", "000", "9", "99", "999"}) Book.right("desk;glad:" + n + ";", 2);
+    for (String n : new String[] {"0000", "0001", "1000", "9999", "12345", "0".repeat(100)}) {
+      Book.faulty("desk;glad:" + n + ";", 1, 10);
+      Book.faulty("desk;piece up " + n + ";", 1, 14);
+      Book.faulty("desk;player has " + n + ";", 1, 16);
+      Book.faulty("desk;slips " + n + ";", 1, 11);
+      Book.faulty("desk;" + n, 1, 5);
+      Book.faulty(n, 1, 0);
+      Book.faulty("desk;glad:1+" + n + "x;", 1, 12);
+    }
+    Book.faulty("desk;glad:1 000 0;", 2, 12);
+  }
+
+  /** "2 it can't stand there (the end: the text's length ..)": also where blanks stand at the end, or the tape goes on. */
+  static void terms1TheEnd() {
+    Book.faulty("", 2, 0);
+    Book.faulty(" ", 2, 1);
+    Book.faulty("\n\n\n", 2, 3);
+    Book.faulty("desk", 2, 4);
+    Book.faulty("desk   ", 2, 7);
+    Book.faulty("desk;piece up", 2, 13);
+    Book.faulty("desk;piece up \n", 2, 15);
+    Book.faulty("desk;may:[1=1", 2, 13);
+    Book.faulty("desk;glad:1+", 2, 12);
+    Book.faulty("desk;glad:1", 2, 11);
+    for (int n = 0; n < 5; n++) {
+      RubatoDesk x = new RubatoDesk();
+      Book.feedText(x, "desk;piece;");
+      due("the first " + n, x.desk(n), Book.FAULT - 2);
+      due("a word that is cut off stands at its first sign", x.fault(1), n == 0 || n == 4 ? n : 0);
+    }
+    RubatoDesk x = new RubatoDesk();
+    Book.feedText(x, "desk;piece up 12345;");
+    due("the number is cut off ahead of its fourth digit", x.desk(17), Book.FAULT - 3);
+    Book.feedText(x, "desk;slips 1000;");
+    due("the number is cut off behind its first digit", x.desk(12), Book.FAULT - 2);
+    due("the end", x.fault(1), 12);
+    Book.feedText(x, " ".repeat(900));
+    due("nine hundred blanks", x.desk(900), Book.FAULT - 2);
+    due("the end", x.fault(1), 900);
+  }
+
+  /** "desk must be told first, and once" */
+  static void terms1DeskFirstAndOnce() {
+    for (String first : new String[] {"piece;", "player;", "glad:1;", "may:1=1;", "slips 1;", ";", "1;", ":", "x"}) {
+      Book.faulty(first + "desk;", 2, 0);
+      Book.faulty(" " + first, 2, 1);
+    }
+    Book.faulty("desk;desk;", 2, 5);
+    Book.faulty("desk;piece;desk;", 2, 11);
+    Book.faulty("desk desk;", 2, 5);
+    Book.faulty("desk;piece desk;", 2, 11);
+    Book.faulty("desk;glad:desk;", 2, 10);
+  }
+
+  /** "FAULTS, the first along the text": whatever kind those behind it are. */
+  static void terms1FirstAlongTheText() {
+    Book.faulty("desk;piece up 10 ? ", 3, 14);
+    Book.faulty("desk;piece up 10 up 1000;", 3, 14);
+    Book.faulty("desk;foo;slips 11;?", 2, 5);
+    Book.faulty("desk;slips 11;foo;?", 3, 11);
+    Book.faulty("desk;?;foo;slips 11;", 1, 5);
+    Book.faulty("desk;glad:(((((((? 1000", 4, 16);
+    Book.faulty("desk;slips 11 foo", 3, 11);
+    Book.faulty("desk;piece;piece;piece;piece;slips 11;piece;", 3, 35);
+    Book.faulty("desk;piece;piece;piece;piece;piece;slips 11;", 4, 29);
+    Book.faulty("piece up 10;", 2, 0);
+  }
+
+  /** "of one TOKEN the least kind": 1 ahead of 2 and 3, 2 ahead of 3 and 4. */
+  static void terms1LeastKindOfOneToken() {
+    Book.faulty("1000", 1, 0);
+    Book.faulty("desk;piece 1000;", 1, 11);
+    Book.faulty("desk;piece up 1000;", 1, 14);
+    Book.faulty("desk;piece ?;", 1, 11);
+    Book.faulty("desk;piece 100;", 2, 11);
+    Book.faulty("desk;piece up 1 100;", 2, 16);
+    Book.faulty("desk;slips 10 11;", 2, 14);
+    Book.faulty("desk;" + Book.times(3, "piece;") + "piece piece;", 2, 29);
+    Book.faulty("desk;" + Book.times(4, "player;") + "player player;", 2, 40);
+    Book.faulty("desk;piece" + Book.times(11, " up 1") + " up up 1;", 2, 10 + 55 + 4);
+    Book.faulty("desk;" + Book.times(4, "piece;") + "slips piece;", 2, 35);
+    Book.faulty("desk;glad:(((((([1=1;", 2, 16);
+    Book.faulty("desk;glad:((((((not 1;", 2, 16);
+    Book.faulty("desk;may:[[[[[[(1)=1;", 4, 15);
+    Book.faulty("desk;may:[[[[[[1(1;", 2, 16);
+    Book.faulty("desk;may:[[[[[[1[1;", 2, 16);
+    Book.faulty("desk;may:not not not not not not 1 not 1;", 2, 35);
+  }
+
+  /** "3 an N out of its bounds": each of the five; a law's N has none but its three digits. */
+  static void terms1NumbersOutOfBounds() {
+    Book.right("desk;piece up 9 down 9;player has 20 owes 20 temper 9;slips 10;glad:999;", 5);
+    Book.faulty("desk;piece up 10;", 3, 14);
+    Book.faulty("desk;piece down 10;", 3, 16);
+    Book.faulty("desk;player has 21;", 3, 16);
+    Book.faulty("desk;player owes 21;", 3, 17);
+    Book.faulty("desk;player temper 10;", 3, 19);
+    Book.faulty("desk;slips 11;", 3, 11);
+    Book.faulty("desk;slips 11", 3, 11);
+    Book.faulty("desk;slips 1;slips 11;slips 1;", 3, 19);
+  }
+
+  // ==== 2. to play
+
+  /** "one DRAWS it out by -2 to 2": these five and no others. */
+  static void terms2DrawsMinus2To2() {
+    RubatoDesk x = Book.told("desk;piece up 1;player;");
+    for (int end = -20; end <= 20; end++) due("rows to " + end, x.rows(0, 0, end), end >= -2 && end <= 2 ? 1 : 0);
+    for (int draw = -4; draw <= 4; draw++) due("glad by " + draw, x.glad(0, 0, 0, draw, 0), Math.abs(draw) <= 2 ? draw : Book.BAD);
+    due("the most", Book.told("desk;piece up 1;player;glad:draw;").comes(0, 0, 10), 2);
+    due("the least", Book.told("desk;piece up 1;player;glad:0-draw;").comes(0, 0, 10), -2);
+    due("none is 3", Book.told("desk;piece up 1;player;may:draw>2;").comes(0, 0, 2), 0);
+    due("none is -3", Book.told("desk;piece up 1;player;may:draw<0-2;").comes(0, 0, 2), 0);
+  }
+
+  /** "its STORE is so much less; it must be -20 to 20 then": each STORE near a bound, by each draw. */
+  static void terms2StoreWithinItsBounds() {
+    for (int store = -20; store <= 20; store++) {
+      RubatoDesk x = Book.told("desk;piece up 1;player " + (store < 0 ? "owes " : "has ") + Math.abs(store) + ";");
+      long all = 0;
+      for (int draw = -2; draw <= 2; draw++) {
+        int end = store - draw;
+        boolean can = end >= -20 && end <= 20;
+        if (can) {
+          due("from " + store + " by " + draw, x.rows(0, 0, end), 1);
+          all++;
+        }
+      }
+      due("as it comes from " + store, x.comes(0, 0, 10), Math.min(2, store + 20));
+      due("the store then", x.comes(0, 0, 1), store - Math.min(2, store + 20));
+      due("the best", x.best(0, 0, -20, 10), Math.min(2, store + 20));
+      due("the greatest store", x.thriftiest(0, 0), Math.min(20, store + 2));
+      Book.fill(x, 0, 0, 9);
+      due("all from " + store, x.heard(0, 0, 0, 99), all);
+    }
+  }
+
+  /** "it must be -20 to 20 then": behind each BAR, not only in the end. */
+  static void terms2StoreWithinItsBoundsAtEachBar() {
+    RubatoDesk x = Book.told("desk;piece up 1 up 1;player has 20;player owes 20;");
+    Book.fill(x, 0, 0, -1, 1);
+    due("above 20 on the way", x.heard(0, 0, 0, 99), 0);
+    due("from -20 it may be", x.heard(0, 1, 0, 99), 1);
+    Book.fill(x, 0, 0, 1, -1);
+    due("below -20 on the way", x.heard(0, 1, 0, 99), 0);
+    due("from 20 it may be", x.heard(0, 0, 0, 99), 1);
+  }
+
+  /** "and the law may must hold (without one: always)" */
+  static void terms2WithoutALawMay() {
+    RubatoDesk x = Book.told("desk;piece up 1 up 1;player;");
+    Book.fill(x, 0, 0, 9, 9);
+    due("always", x.heard(0, 0, 0, 99), 25);
+    due("always, by a law", Book.tell(x, "desk;piece up 1 up 1;player;may:0=0;"), 4);
+    due("always, by a law", x.heard(0, 0, 0, 99), 25);
+    due("never", Book.tell(x, "desk;piece up 1 up 1;player;may:0=1;"), 4);
+    due("never", x.heard(0, 0, 0, 99), 0);
+    due("without one again", Book.tell(x, "desk;piece up 1 up 1;player;"), 3);
+    due("always", x.heard(0, 0, 0, 99), 25);
+  }
+
+  /** "as the law glad tells (without one: what it WANTS times what it is DRAWN out)" */
+  static void terms2WithoutALawGlad() {
+    RubatoDesk x = Book.told("desk;piece up 9 down 9 up 0;player;");
+    for (int draw = -2; draw <= 2; draw++) {
+      due("up", x.glad(0, 0, 0, draw, 0), 9 * draw);
+      due("down", x.glad(0, 0, 1, draw, 0), -9 * draw);
+      due("0", x.glad(0, 0, 2, draw, 0), 0);
+    }
+    due("a law that tells 0", Book.told("desk;piece up 9;player;glad:0;").glad(0, 0, 0, 2, 0), 0);
+    due("the law of the desk ahead is gone", Book.tell(x, "desk;piece up 9;player;glad:5;"), 4);
+    due("a law", x.glad(0, 0, 0, 2, 0), 5);
+    due("the law of the desk ahead is gone", Book.tell(x, "desk;piece up 9;player;"), 3);
+    due("none", x.glad(0, 0, 0, 2, 0), 18);
+  }
+
+  /** "who: the PLAYER's number, temper: its temper, piece, bar: numbers, want: what it WANTS, draw": least and greatest. */
+  static void terms2WhatTheWordsAre() {
+    String bars = Book.times(11, " up 1") + " down 9";
+    RubatoDesk x = Book.told("desk;" + Book.times(3, "piece up 9;") + "piece" + bars + ";" + Book.times(4, "player;")
+        + "player owes 20 temper 9;glad:who*100+temper*10+piece;");
+    due("the first of all", x.glad(0, 0, 0, 0, 0), 0);
+    due("the last of all", x.glad(4, 3, 11, 0, 0), 493);
+    x = Book.told("desk;" + Book.times(3, "piece up 9;") + "piece" + bars + ";" + Book.times(4, "player;")
+        + "player owes 20 temper 9;glad:bar*100+want;");
+    due("the first of all", x.glad(0, 0, 0, 0, 0), 9);
+    due("the last of all", x.glad(4, 3, 11, 0, 0), 1091);
+    x = Book.told("desk;piece up 9;player owes 20;player has 20;glad:draw*1+last*10+store*100;");
+    due("the least", x.glad(0, 0, 0, -2, -2), -2022);
+    due("the greatest", x.glad(1, 0, 0, 2, 2), 2022);
+  }
+
+  /** "last: by how much the BAR ahead was (0: the first one), store: the STORE ahead of it" */
+  static void terms2LastOfTheFirstBar() {
+    RubatoDesk x = Book.told("desk;piece up 1 up 1 up 1;player has 5;glad:last*100+store;may:draw=bar-1;");
+    due("0 and 5, -1 and 6, 0 and 6", x.comes(0, 0, 0), 5 - 100 + 6 + 6);
+    due("best, too", x.best(0, 0, -20, 0), -83);
+    x = Book.told("desk;piece up 1;piece up 1;player;may:last=0 and draw=2;");
+    due("at each piece's first bar", x.order(0, 3, -20, 0), 4);
+    due("played", x.play(0, 0), 2);
+    due("not by what was played ahead", x.play(0, 1), 2);
+  }
+
+  private static long gladBy(String law) {
+    return Book.told("desk;piece up 1;player has 1;glad:" + law + ";").glad(0, 0, 0, 0, 0);
+  }
+
+  /** "each + - * is kept from -1,000,000 to 1,000,000": just at, one within and one beyond, for each of the three. */
+  static void terms2KeptWithinAMillion() {
+    String most = "(999*999+999+999)";
+    due("999,999", gladBy(most), 999999);
+    due("+ to the bound", gladBy(most + "+1"), 1000000);
+    due("+ one beyond", gladBy(most + "+2"), 1000000);
+    due("+ far beyond", gladBy(most + "+" + most), 1000000);
+    due("kept, then one less", gladBy(most + "+2-1"), 999999);
+    due("- to the bound below", gladBy("0-" + most + "-1"), -1000000);
+    due("- one beyond", gladBy("0-" + most + "-2"), -1000000);
+    due("- far beyond", gladBy("0-" + most + "-" + most), -1000000);
+    due("kept, then one more", gladBy("0-" + most + "-2+1"), -999999);
+    due("- of one below 0 to the bound", gladBy(most + "-(0-1)"), 1000000);
+    due("- of one below 0 beyond", gladBy(most + "-(0-2)"), 1000000);
+    due("+ of one below 0 to the bound", gladBy("0-" + most + "+(0-1)"), -1000000);
+    due("+ of one below 0 beyond", gladBy("0-" + most + "+(0-2)"), -1000000);
+    due("* to the bound", gladBy("500*2*(500*2)"), 1000000);
+    due("* one beyond", gladBy("101*(99*100+1)"), 1000000);
+    due("* just within", gladBy("(500*2+1)*999"), 999999);
+    due("* to the bound below", gladBy("500*2*(0-500*2)"), -1000000);
+    due("* beyond below", gladBy("101*(0-(99*100+1))"), -1000000);
+    due("* of two below 0", gladBy("(0-500*2)*(0-500*2-1)"), 1000000);
+    due("* of the greatest ones", gladBy("(999*999*2)*(999*999*2)"), 1000000);
+    due("* of the least ones", gladBy("(0-999*999*2)*(0-999*999*2)"), 1000000);
+    due("* of both", gladBy("(0-999*999*2)*(999*999*2)"), -1000000);
+    due("each from the left on", gladBy("999*999*2-999*999*2-1"), -1);
+    due("each product by itself", gladBy("999*999*999*0"), 0);
+    due("all below", gladBy("0-999*999*999-999*999*999"), -1000000);
+    due("in may, too", Book.told("desk;piece up 1;player;may:999*999*999=999*999+999+999+1;").comes(0, 0, 2), NONE);
+    due("in may, too", Book.told("desk;piece up 1;player;may:999*999*999>999*999+999+999+2;").comes(0, 0, 2), 0);
+  }
+
+  /** "AS IT COMES: .. that which makes one most GLAD there, of like ones the least (-2 first)" */
+  static void terms2OfLikeOnesTheLeast() {
+    due("all alike", Book.told("desk;piece up 0;player;").comes(0, 0, 10), -2);
+    due("the bound above leaves -1", Book.told("desk;piece up 0;player has 19;").comes(0, 0, 10), -1);
+    due("the bound above leaves 0", Book.told("desk;piece up 0;player has 20;").comes(0, 0, 10), 0);
+    due("two are alike", Book.told("desk;piece up 0;player;glad:draw*draw;").comes(0, 0, 10), -2);
+    due("two are alike", Book.told("desk;piece up 0;player;glad:draw*draw;may:draw>0-2;").comes(0, 0, 10), 2);
+    due("the least gladness of all", Book.told("desk;piece up 0;player;glad:0-999*999*999;").comes(0, 0, 10), -2);
+    due("the least gladness of all", Book.told("desk;piece up 0;player;glad:0-999*999*999;").comes(0, 0, 0), -1000000);
+  }
+
+  /** "it breaks off at a BAR that may be by none": the first, the last, none. */
+  static void terms2BreaksOff() {
+    for (int at = 0; at <= 12; at++) {
+      RubatoDesk x = Book.told("desk;piece" + Book.times(12, " up 1") + ";player has 20;glad:7;may:not bar=" + at + " and draw=1;");
+      due("breaks off", x.comes(0, 0, 2), at == 12 ? NONE : at);
+      due("gladness till there", x.comes(0, 0, 0), 7 * at);
+      due("the store then", x.comes(0, 0, 1), 20 - at);
+      for (int bar = 0; bar < 12; bar++) due("drawn", x.comes(0, 0, 10 + bar), bar < at ? 1 : 9);
+      due("played till there", x.play(0, 0), 7 * at);
+      due("joy till there", x.player(0, 1), 7 * at);
+      due("store till there", x.player(0, 0), 20 - at);
+      x.undo(1);
+      due("there is a row", x.best(0, 0, -20, 0), at == 12 ? 84 : Book.NO_ROW);
+    }
+  }
+
+  /** "JOY (0 at first, kept from -9,999,999 to 9,999,999)": just at the bounds, beyond them, and back from there. */
+  static void terms2JoyWithinItsBounds() {
+    RubatoDesk x = Book.told("desk;piece" + Book.times(9, " up 1") + ";piece up 1;piece up 1;piece up 1;player temper 1;player;may:draw=0;"
+        + "glad:(temper*2-1)*((3-piece)*999*999*999);");
+    due("at first", x.player(0, 1), 0);
+    due("nine bars of a million", x.play(0, 0), 9000000);
+    due("joy", x.player(0, 1), 9000000);
+    due("a tenth", x.play(0, 1), 1000000);
+    due("one less than its greatness", x.player(0, 1), 9999999);
+    due("once more", x.perform(0, 0), 9000000);
+    due("kept", x.player(0, 1), 9999999);
+    due("nothing", x.play(0, 3), 0);
+    due("it stays", x.player(0, 1), 9999999);
+    x.temper(0, 0);
+    due("back from there", x.play(0, 1), -1000000);
+    due("back from there", x.player(0, 1), 8999999);
+    due("player 1 below", x.play(1, 0), -9000000);
+    due("player 1 below", x.perform(1, 1), -1000000);
+    due("kept below", x.player(1, 1), -9999999);
+    due("kept below", x.play(1, 0), -9000000);
+    due("kept below", x.player(1, 1), -9999999);
+    x.temper(1, 1);
+    due("back from there", x.play(1, 1), 1000000);
+    due("back from there", x.player(1, 1), -8999999);
+    due("all joy", x.count(4), 0);
+  }
+
+  /** "kept from -9,999,999 to 9,999,999": the bound itself is reached without being cut. */
+  static void terms2JoyJustAtItsBounds() {
+    for (int sign : new int[] {1, -1}) {
+      RubatoDesk x = Book.told("desk;piece" + Book.times(9, " up 1") + " up 0;piece up 1;player temper " + (sign > 0 ? 1 : 0) + ";may:draw=0;"
+          + "glad:(temper*2-1)*((1-piece)*(999*999+999+998+want*2)+piece);");
+      due("nine millions and 999,998", x.play(0, 0), sign * 9999998L);
+      due("joy", x.player(0, 1), sign * 9999998L);
+      due("1", x.play(0, 1), sign);
+      due("just at the bound", x.player(0, 1), sign * 9999999L);
+      due("1", x.play(0, 1), sign);
+      due("beyond the bound", x.player(0, 1), sign * 9999999L);
+      due("the latest is undone", x.undo(1), 2);
+      due("just at the bound", x.player(0, 1), sign * 9999999L);
+      x.temper(0, sign > 0 ? 0 : 1);
+      x.play(0, 1);
+      due("one back", x.player(0, 1), sign * 9999998L);
+    }
+  }
+
+  /** "of one that breaks off, what it had till there" */
+  static void terms2JoyOfOneThatBreaksOff() {
+    RubatoDesk x = Book.told("desk;piece up 5 up 5 up 5;player has 20;may:bar<2;");
+    due("till there", x.play(0, 0), 20);
+    due("joy", x.player(0, 1), 20);
+    due("store", x.player(0, 0), 16);
+    due("it did some", x.count(8), 1);
+    x = Book.told("desk;piece up 5;player has 20;may:bar<0;");
+    due("at once", x.play(0, 0), 0);
+    due("joy", x.player(0, 1), 0);
+    due("store", x.player(0, 0), 20);
+    due("it did some, for it is played", x.count(8), 1);
+  }
+
+  /** "To LEND TICKS to another one: 1 to 40, the own STORE -20 at least then, the other one's 20 at most." */
+  static void terms2Lend() {
+    RubatoDesk x = Book.told("desk;player has 20;player owes 20;player;player owes 19;player has 19;");
+    for (int ticks = -2; ticks <= 42; ticks++) {
+      boolean can = ticks >= 1 && ticks <= 40;
+      due("lend " + ticks, x.lend(0, 1, ticks), can ? 20 - ticks : Book.WHY1);
+      if (can) {
+        due("the other one", x.player(1, 0), ticks - 20);
+        x.undo(1);
+      }
+    }
+    due("to -20", x.lend(2, 1, 20), -20);
+    due("below", x.lend(2, 1, 1), Book.WHY3);
+    x.undo(1);
+    due("below at once", x.lend(2, 1, 21), Book.WHY3);
+    due("1 to -20", x.lend(3, 2, 1), -20);
+    x.undo(1);
+    due("2 below", x.lend(3, 2, 2), Book.WHY3);
+    due("to 20", x.lend(0, 4, 1), 19);
+    due("the other one", x.player(4, 0), 20);
+    x.undo(1);
+    due("above", x.lend(0, 4, 2), Book.WHY3);
+    due("a full one", x.lend(4, 0, 1), Book.WHY3);
+    due("an empty one", x.lend(1, 2, 1), Book.WHY3);
+    due("nothing was lent", x.count(3), 0);
+    due("no call can be undone", x.count(8), 0);
+  }
+
+  /** "A FRIDAY: who owes (STORE below 0) is BARRED, all others aren't any more; WEEK is 1 more." */
+  static void terms2Friday() {
+    RubatoDesk x = Book.told("desk;player owes 1;player owes 0;player has 1;player owes 20;player has 20;");
+    due("before", x.count(5), 0);
+    due("week", x.count(6), 0);
+    due("-1 and -20, not 0", x.friday(), 1 + 8);
+    due("week", x.count(6), 1);
+    x.lend(2, 0, 1);
+    due("0 owes no more, but it is no friday", x.count(5), 1 + 8);
+    x.lend(1, 3, 1);
+    due("1 and 3", x.friday(), 2 + 8);
+    due("0 isn't any more", x.player(0, 3), 0);
+    due("week", x.count(6), 2);
+    due("all five", Book.told("desk;" + Book.times(5, "player owes 1;")).friday(), 31);
+    due("nobody", new RubatoDesk().friday(), 0);
+    for (int i = 3; i < 60; i++) {
+      x.friday();
+      due("each week", x.count(6), i);
+    }
+  }
+
+  /** "Why not: 1 .. 2 it is BARRED (to PLAY)": it bars nothing else. */
+  static void terms2BarredOnlyToPlay() {
+    RubatoDesk x = Book.told("desk;piece up 1 up 1;player owes 3;player has 5;");
+    x.friday();
+    due("play", x.play(0, 0), Book.WHY2);
+    due("perform", x.perform(0, 0), Book.WHY2);
+    due("lend", x.lend(0, 1, 1), -4);
+    due("be lent", x.lend(1, 0, 1), 5);
+    due("temper", x.temper(0, 1), 0);
+    due("comes", x.comes(0, 0, 0), 4);
+    due("best", x.best(0, 0, -20, 0), 4);
+    due("gladdest by goal 0", x.gladdest(0), 1);
+    due("lends", x.lends(1, 0, 0, 0), 1);
+    x.lend(1, 0, 4);
+    due("still barred though it has", x.play(0, 0), Book.WHY2);
+    x.friday();
+    due("not any more", x.play(0, 0), 4);
+  }
+
+  /** "Why not: 1 no such PLAYER, PIECE, TICKS, temper, both one. 2 .. 3 ..": the least one is answered, in deeds told, too. */
+  static void terms2WhyNotInItsOrder() {
+    RubatoDesk x = Book.told("desk;piece up 1;player owes 20;player has 20;may:1=2;");
+    x.friday();
+    long[][] whys = {{1, 1}, {0, 2}, {101, 1}, {100, 2}, {110, 3}, {111, 1}, {20, 1}, {120, 1}, {1001, 1}, {1100, 1}, {1141, 1}, {1101, 3}, {2001, 0}, {2041, 1},
+        {2040, 0}, {3001, 1}, {1201, 1}};
+    for (long[] w : whys) {
+      Book.fill(x, 0, 3, w[0]);
+      due("why of " + w[0], x.judge(0, 1), w[1]);
+      due("place of " + w[0], x.judge(0, 0), w[1] == 0 ? NONE : 0);
+    }
+  }
 }
