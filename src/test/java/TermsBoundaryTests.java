@@ -802,4 +802,148 @@ public final class TermsBoundaryTests {
       due("place of " + w[0], x.judge(0, 0), w[1] == 0 ? NONE : 0);
     }
   }
+
+  /** "DEEDS in a TRAY: 0 to 99: PLAYER v by 10 PLAYS PIECE v modulo 10 as it comes; 100 to 199: likewise, best" */
+  static void terms2DeedsToPlay() {
+    String bars = " up 1 up 2 up 3";
+    RubatoDesk x = Book.told("desk;" + Book.times(4, "piece" + bars + ";") + Book.times(5, "player owes 18;") + "glad:draw*(want+who*5+piece*7);");
+    for (int v = 0; v < 200; v++) {
+      int p = v / 10 % 10, piece = v % 10;
+      boolean can = p < 5 && piece < 4;
+      Book.fill(x, 0, 1, v);
+      due("why of " + v, x.judge(0, 1), can ? 0 : 1);
+      due("place of " + v, x.judge(0, 0), can ? NONE : 0);
+      due("joy of " + v, x.judge(0, 3), !can ? 0 : v < 100 ? x.comes(p, piece, 0) : x.best(p, piece, -20, 0));
+      due("stores of " + v, x.judge(0, 2), !can ? -90 : -72 + (v < 100 ? x.comes(p, piece, 1) : x.best(p, piece, -20, 1)));
+    }
+    due("best is not as it comes", x.best(0, 0, -20, 0) == x.comes(0, 0, 0) ? 0 : 1, 1);
+  }
+
+  /** "1000 to 9999: PLAYER (v - 1000) by 1000 LENDS PLAYER (v by 100) modulo 10 v modulo 100 TICKS" */
+  static void terms2DeedsToLend() {
+    RubatoDesk x = Book.told("desk;player has 20;player owes 20;player;player;player;");
+    int[] stores = {20, -20, 0, 0, 0};
+    for (int v = 1000; v <= 9999; v += 7) dueLent(x, stores, v);
+    for (int v : new int[] {1000, 1001, 1100, 1101, 1139, 1140, 1141, 1199, 1500, 1501, 1599, 2001, 2021, 5301, 5399, 5401, 5501, 6001, 9901, 9999}) dueLent(x, stores, v);
+  }
+
+  private static void dueLent(RubatoDesk x, int[] stores, int v) {
+    int p = (v - 1000) / 1000, q = v / 100 % 10, ticks = v % 100;
+    int why = p > 4 || q > 4 || p == q || ticks < 1 || ticks > 40 ? 1 : stores[p] - ticks < -20 || stores[q] + ticks > 20 ? 3 : 0;
+    Book.fill(x, 0, 1, v);
+    due("why of " + v, x.judge(0, 1), why);
+    due("done of " + v, x.does(0), why == 0 ? 1 : 0);
+    if (why == 0) {
+      due("the own store of " + v, x.player(p, 0), stores[p] - ticks);
+      due("the other one's store of " + v, x.player(q, 0), stores[q] + ticks);
+      x.undo(1);
+    }
+  }
+
+  /** "NONE: a FRIDAY; others: 1": just beyond each range, and far out in a TRAY of 64 bits. */
+  static void terms2OtherDeeds() {
+    RubatoDesk x = Book.told("desk;piece;player;player;");
+    for (long v : new long[] {-2, -3, -100, 200, 201, 500, 999, 10000, 10001, 65536, 1L << 32, (1L << 32) + 100, (1L << 32) - 1, Integer.MIN_VALUE,
+        Integer.MAX_VALUE, Long.MIN_VALUE, Long.MAX_VALUE, -1L << 32}) {
+      Book.fill(x, 0, 3, v);
+      due("why of " + v, x.judge(0, 1), 1);
+      due("place of " + v, x.judge(0, 0), 0);
+      due("does " + v, x.does(0), 0);
+    }
+    Book.fill(x, 0, 3, -1);
+    due("a friday", x.judge(0, 1), 0);
+    due("a friday", x.does(0), 1);
+    due("a friday", x.count(6), 1);
+    Book.fill(x, 0, 3, 0, 100, 10, 110);
+    due("the first ones", x.does(0), 4);
+    Book.fill(x, 0, 3, 1101, 2001);
+    due("the first ones", x.does(0), 2);
+    Book.fill(x, 0, 0, 0);
+    due("255 in 8 bits is -1", x.write(0, 0, 255), -1);
+    due("a friday", x.does(0), 1);
+    due("a friday", x.count(6), 2);
+  }
+
+  /** "Calls that did some can be UNDONE each as a whole, the latest first, 10 at most (eldest are forgotten)" */
+  static void terms2TenAtMost() {
+    for (int calls = 0; calls <= 23; calls++) {
+      RubatoDesk x = Book.told("desk;player;");
+      for (int i = 1; i <= calls; i++) {
+        x.temper(0, i % 10);
+        due("can be undone", x.count(8), Math.min(i, 10));
+      }
+      int can = Math.min(calls, 10);
+      due("one more than can be", x.undo(can + 1), Book.BAD);
+      for (int i = 1; i <= can; i++) {
+        due("undo", x.undo(1), can - i);
+        due("the latest first", x.player(0, 2), (calls - i) % 10);
+      }
+      due("the eldest are forgotten", x.undo(1), Book.BAD);
+      due("the eldest are forgotten", x.player(0, 2), (calls - can) % 10);
+      x.temper(0, 5);
+      due("another one", x.undo(1), 0);
+      due("another one", x.player(0, 2), (calls - can) % 10);
+    }
+  }
+
+  /** "UNDONE: STORES, JOY, TEMPERS, who is BARRED, WEEK", and of all PLAYERS. */
+  static void terms2WhatIsUndone() {
+    RubatoDesk x = Book.told("desk;piece up 1;" + Book.times(5, "player owes 3 temper 2;"));
+    x.friday();
+    for (int p = 1; p < 5; p++) due("lend", x.lend(p, 0, 1), -4);
+    due("friday", x.friday(), 30);
+    String ahead = Book.look(x);
+    due("play", x.play(0, 0), 2);
+    due("undo", x.undo(1), 6);
+    Book.alike("what was played", Book.look(x), ahead);
+    due("temper", x.temper(4, 9), 2);
+    due("undo", x.undo(1), 6);
+    Book.alike("the temper", Book.look(x), ahead);
+    due("lend", x.lend(0, 4, 20), -19);
+    due("undo", x.undo(1), 6);
+    Book.alike("what was lent", Book.look(x), ahead);
+    x.lend(0, 4, 20);
+    due("friday", x.friday(), 15);
+    due("undo both", x.undo(2), 6);
+    Book.alike("who is barred and the week", Book.look(x), ahead);
+    due("perform", x.perform(0, 0), 2);
+    due("undo", x.undo(1), 6);
+    Book.alike("what was performed", Book.look(x), ahead);
+    due("all", x.undo(6), 0);
+    for (int p = 0; p < 5; p++) {
+      due("store", x.player(p, 0), -3);
+      due("temper", x.player(p, 2), 2);
+      due("barred", x.player(p, 3), 0);
+    }
+    due("week", x.count(6), 0);
+  }
+
+  /** "Calls that did some": those that ask, are refused, or did nothing are not among them. */
+  static void terms2CallsThatDidSome() {
+    RubatoDesk x = Book.rich();
+    due("four did", x.count(8), 4);
+    Book.look(x);
+    x.image(1);
+    x.fault(0);
+    x.feed(0, 0, 0, 0, 0);
+    x.numbers(3, 0, 1);
+    x.write(3, 0, -3);
+    x.lists(3, 0, 0, 0);
+    x.write(3, 0, 99);
+    due("nothing of it is done", x.does(3), 0);
+    due("no numbers", x.does(2), 0);
+    x.play(1, 0);
+    x.perform(0, 3);
+    x.lend(0, 0, 1);
+    x.temper(0, 10);
+    x.undo(9);
+    due("still four", x.count(8), 4);
+    RubatoDesk y = new RubatoDesk();
+    for (int seed = 0; seed < 200; seed++) {
+      int ahead = y.count(8);
+      int done = y.term(seed, 1);
+      due("a term that did some", y.count(8), Math.min(10, ahead + done));
+      due("of nobody a friday alone can be", y.count(6) >= done ? 1 : 0, 1);
+    }
+  }
 }
