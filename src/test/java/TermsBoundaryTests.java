@@ -946,4 +946,399 @@ public final class TermsBoundaryTests {
       due("of nobody a friday alone can be", y.count(6) >= done ? 1 : 0, 1);
     }
   }
+
+  // ==== 3. best, orders, heard, chances
+
+  /** "with a GOAL (-20 to 20; ..): of all behind which the STORE is the GOAL at least": just it, one above. */
+  static void terms3GoalAtLeast() {
+    RubatoDesk x = Book.told("desk;piece up 1;player;player has 20;player owes 20;");
+    for (int goal = -20; goal <= 20; goal++) {
+      due("from 0 to " + goal, x.best(0, 0, goal, 0), goal > 2 ? Book.NO_ROW : -Math.max(goal, -2));
+      due("from 20 to " + goal, x.best(1, 0, goal, 0), -Math.max(goal, 18) + 20);
+      due("from -20 to " + goal, x.best(2, 0, goal, 0), goal > -18 ? Book.NO_ROW : -Math.max(goal, -20) - 20);
+      due("the store then", x.best(0, 0, goal, 1), goal > 2 ? Book.NO_ROW : Math.max(goal, -2));
+    }
+    for (int goal : new int[] {-22, -21, 21, 22}) due("no goal", x.best(0, 0, goal, 0), Book.BAD);
+  }
+
+  /** "the one of greatest GLADNESS, of like ones the first, BAR by BAR (-2 first)" */
+  static void terms3OfLikeRowsTheFirst() {
+    RubatoDesk x = Book.told("desk;piece up 0 up 0 up 0;player;player has 20;player has 19;");
+    for (int bar = 0; bar < 3; bar++) due("all alike", x.best(0, 0, -20, 10 + bar), -2);
+    for (int bar = 0; bar < 3; bar++) due("all alike, the store is full", x.best(1, 0, -20, 10 + bar), 0);
+    due("all alike, one is left", x.best(2, 0, -20, 10), -1);
+    due("all alike, one is left", x.best(2, 0, -20, 11), 0);
+    x = Book.told("desk;piece up 1 up 1 up 1;player;");
+    due("0 in the end", x.best(0, 0, 0, 10), -2);
+    due("0 in the end", x.best(0, 0, 0, 11), 0);
+    due("0 in the end", x.best(0, 0, 0, 12), 2);
+  }
+
+  /** "With any end: with -20": to PLAY best goes down to -20, not beyond. */
+  static void terms3AnyEnd() {
+    for (int owes = 15; owes <= 20; owes++) {
+      RubatoDesk x = Book.told("desk;piece up 1 up 1;player owes " + owes + ";");
+      int most = Math.min(4, 20 - owes);
+      due("best", x.best(0, 0, -20, 0), most);
+      due("perform", x.perform(0, 0), most);
+      due("the store then", x.player(0, 0), -owes - most);
+    }
+  }
+
+  /** A PIECE without BARS has one ROW, of no BAR: its GLADNESS is 0, the STORE stays. */
+  static void terms3RowOfNoBar() {
+    RubatoDesk x = Book.told("desk;piece;player has 3;player;glad:5;may:1=2;slips 10;");
+    due("one", x.rows(0, 0, 3), 1);
+    due("no other end", x.rows(0, 0, 2), 0);
+    due("gladness", x.best(0, 0, 3, 0), 0);
+    due("store", x.best(0, 0, 3, 1), 3);
+    due("bar", x.best(0, 0, 3, 10), 9);
+    due("the goal", x.best(0, 0, 4, 0), Book.NO_ROW);
+    due("comes", x.comes(0, 0, 0), 0);
+    due("comes", x.comes(0, 0, 1), 3);
+    due("comes", x.comes(0, 0, 2), NONE);
+    due("thriftiest", x.thriftiest(0, 0), 3);
+    due("least", x.least(0, 0, -20, 0), -20);
+    due("least", x.least(0, 0, 20, 0), 20);
+    due("least", x.least(0, 0, 0, 1), Book.NO_ROW);
+    due("squarest", x.squarest(0, 0), 3);
+    due("order", x.order(0, 1, 3, 0), 0);
+    due("mostPieces", x.mostPieces(0, 3), 1);
+    due("mostPieces", x.mostPieces(0, 4), 0);
+    due("gladdest", x.gladdest(0), 0);
+    due("lends", x.lends(0, 0, 1, 0), 0);
+    due("reply", x.reply(0, 1, 0, 0), 0);
+    due("chance", x.chance(0, 0, 3, 0), 1);
+    due("chance", x.chance(0, 0, 4, 0), 0);
+    due("putBy", x.putBy(0, 0, 100), 0);
+    Book.fill(x, 0, 0);
+    due("heard", x.heard(0, 0, 0, 99), 1);
+    due("tempers", x.tempers(0, 0, 0), 1023);
+    due("next", x.next(0, 0, 0), NONE);
+    due("lists", x.lists(0, 0, 0, 3), 0);
+    due("perform", x.perform(0, 0), 0);
+    due("play", x.play(0, 0), 0);
+    due("both did some", x.count(8), 2);
+  }
+
+  /** "AN ORDER: one behind the other, each once; each with a ROW, the last one's STORE the GOAL at least" */
+  static void terms3OrderGoal() {
+    RubatoDesk x = Book.told("desk;piece up 1;piece up 1;piece up 1;piece up 1;player;");
+    for (int goal = -20; goal <= 20; goal++) {
+      due("four to " + goal, x.order(0, 15, goal, 0), goal > 8 ? Book.NO_ROW : -Math.max(goal, -8));
+      due("one to " + goal, x.order(0, 4, goal, 0), goal > 2 ? Book.NO_ROW : -Math.max(goal, -2));
+    }
+    due("only the last one's store is told", Book.told("desk;piece up 1;piece down 1;player;").order(0, 3, 0, 0), 4);
+    due("a row is not to be broken off", Book.told("desk;piece up 1;piece up 1;player;may:piece=1;").order(0, 3, -20, 0), Book.NO_ROW);
+    due("the store's bounds", Book.told("desk;piece up 9;piece up 9;player owes 18;").order(0, 3, -20, 0), 18);
+  }
+
+  /** "of like ones the first by PIECES" */
+  static void terms3OrderFirstByPieces() {
+    RubatoDesk x = Book.told("desk;piece up 1;piece up 1;piece up 1;piece up 1;player;");
+    for (int set = 1; set < 16; set++) {
+      int place = 0;
+      for (int piece = 0; piece < 4; piece++) if ((set >> piece & 1) != 0) due("set " + set, x.order(0, set, 0, 10 + place++), piece);
+      for (; place < 4; place++) due("not so many of " + set, x.order(0, set, 0, 10 + place), NONE);
+    }
+    x = Book.told("desk;piece up 1;piece up 1;piece up 1;piece up 1;player has 20;may:draw=1;glad:(20-store)*piece;");
+    for (int place = 0; place < 4; place++) due("by store", x.order(0, 15, 0, 10 + place), place);
+    x = Book.told("desk;piece up 1;piece up 1;piece up 1;piece up 1;player has 20;may:draw=1;glad:store*piece;");
+    for (int place = 0; place < 4; place++) due("the other way round", x.order(0, 15, 0, 10 + place), 3 - place);
+  }
+
+  /** "A REPLY: .. 1 at most from the first one's BEST ROW with the GOAL 0": the neighbours, within -2 to 2. */
+  static void terms3ReplyOneAtMost() {
+    for (int draw = -2; draw <= 2; draw++) {
+      String first = "(draw - " + (draw + 2) + " + 2) * (draw - " + (draw + 2) + " + 2)";
+      RubatoDesk least = Book.told("desk;piece up 1;player has 9;player has 9;glad:(who-1)*999*" + first + "-who*draw;");
+      due("the first one's", least.best(0, 0, 0, 10), draw);
+      due("the least reply", least.reply(0, 1, 0, 10), Math.max(-2, draw - 1));
+      due("its gladness", least.reply(0, 1, 0, 0), -Math.max(-2, draw - 1));
+      RubatoDesk most = Book.told("desk;piece up 1;player has 9;player has 9;glad:(who-1)*999*" + first + "+who*draw;");
+      due("the greatest reply", most.reply(0, 1, 0, 10), Math.min(2, draw + 1));
+      RubatoDesk like = Book.told("desk;piece up 1;player has 9;player has 9;glad:(who-1)*999*" + first + ";");
+      due("of like ones the first", like.reply(0, 1, 0, 10), Math.max(-2, draw - 1));
+    }
+  }
+
+  /** "behind which its own STORE is 0 at least", and "the first one's BEST ROW with the GOAL 0" */
+  static void terms3ReplySquare() {
+    for (int has = 0; has <= 4; has++) {
+      RubatoDesk x = Book.told("desk;piece up 1 up 1;player has 20;player has " + has + ";");
+      due("the first one's", x.best(0, 0, 0, 0), 4);
+      due("the reply", x.reply(0, 1, 0, 0), has < 2 ? Book.NO_ROW : Math.min(4, has));
+      due("the store then", x.reply(0, 1, 0, 1), has < 2 ? Book.NO_ROW : Math.max(0, has - 4));
+    }
+    due("the first one's goal is 0: -2 2, so one who has 20 can't reply", Book.told("desk;piece up 1 up 1;player;player has 20;").reply(0, 1, 0, 0), Book.NO_ROW);
+    due("one who has 19 replies -1 2", Book.told("desk;piece up 1 up 1;player;player has 19;").reply(0, 1, 0, 0), 1);
+    due("one who owes 4 can be square by a row of -2 -2",
+        Book.told("desk;piece up 1 up 1;player owes 4;player owes 2;").reply(0, 1, 0, 0), -2);
+    due("one who owes 5 can't", Book.told("desk;piece up 1 up 1;player owes 5;player;").reply(0, 1, 0, 0), Book.NO_ROW);
+  }
+
+  /** "HEARD in a TRAY (as many numbers as the PIECE has BARS: by how much each was DRAWN out; 9: not heard)" */
+  static void terms3HeardNumbers() {
+    RubatoDesk x = Book.told("desk;piece up 1 up 1;player;");
+    for (int n = 0; n <= 40; n++) {
+      due("numbers", x.numbers(0, 0, n), 0);
+      due(n + " of 2", x.heard(0, 0, 0, 99), n == 2 ? 1 : Book.TOO_MANY);
+    }
+    for (int number = -5; number <= 12; number++) {
+      boolean heard = number >= -2 && number <= 2;
+      Book.fill(x, 0, 0, number, 1);
+      due("heard " + number, x.heard(0, 0, 0, 99), heard ? 1 : number == 9 ? 5 : Book.BAD);
+      Book.fill(x, 0, 0, -1, number);
+      due("heard behind " + number, x.heard(0, 0, 0, 99), heard ? 1 : number == 9 ? 5 : Book.BAD);
+    }
+    Book.fill(x, 0, 0, 9, 9);
+    due("nothing heard", x.heard(0, 0, 0, 99), 25);
+    String twelve = "desk;piece" + Book.times(12, " up 1") + ";player;";
+    due("twelve", Book.tell(x, twelve), 3);
+    Book.fill(x, 0, 3, 9, 9, 9, 9, 9, 9, 9, 9, 9, 9, 9, 2);
+    long all = 0;
+    for (int end = -20; end <= 20; end++) all += x.heard(0, 0, 0, end);
+    due("twelve, all ends", x.heard(0, 0, 0, 99), all);
+    x.write(0, 11, 3);
+    due("the twelfth can't be", x.heard(0, 0, 0, 99), Book.BAD);
+    due("thirteen", x.numbers(0, 3, 13), 0);
+    due("thirteen", x.heard(0, 0, 0, 99), Book.TOO_MANY);
+    due("eleven", x.numbers(0, 3, 11), 0);
+    due("eleven", x.heard(0, 0, 0, 99), Book.TOO_MANY);
+  }
+
+  /** "TEMPERS 0 to 9 of a PLAYER by which AS IT COMES a PIECE is .. as HEARD (its STORE as now; it doesn't break off)." */
+  static void terms3Tempers() {
+    RubatoDesk x = Book.told("desk;piece up 1 up 1;player has 5 temper 4;may:draw=0 and store=5 and bar*(temper+1)<9;");
+    Book.fill(x, 0, 0, 0, 0);
+    due("0 to 7, for by 8 and 9 it breaks off at bar 1", x.tempers(0, 0, 0), 255);
+    Book.fill(x, 0, 0, 9, 9);
+    due("not heard, and still they break off", x.tempers(0, 0, 0), 255);
+    Book.fill(x, 0, 0, 1, 9);
+    due("by none", x.tempers(0, 0, 0), 0);
+    x = Book.told("desk;piece up 1;player temper 4;may:draw=0 and [temper=0 or temper=9];");
+    Book.fill(x, 0, 0, 0);
+    due("the least and the greatest", x.tempers(0, 0, 0), 1 + 512);
+    due("the temper stays", x.player(0, 2), 4);
+    x = Book.told("desk;piece up 1;player has 5;player;may:store=5;");
+    Book.fill(x, 0, 0, 9);
+    due("its store as now", x.tempers(0, 0, 0), 1023);
+    due("its store as now", x.tempers(0, 1, 0), 0);
+    x.lend(0, 1, 5);
+    due("its store as now", x.tempers(0, 0, 0), 0);
+    due("its store as now", x.tempers(0, 1, 0), 1023);
+  }
+
+  /** "CHANCE: .. DRAWN out by 1 more than it would be, if that may be (2 at most; else as it would)" */
+  static void terms3ChanceOfASlip() {
+    String[] glads = {"0-draw", "0-(draw+1)*(draw+1)", "0-draw*draw", "0-(draw-1)*(draw-1)", "draw"};
+    for (int i = 0; i < 5; i++) {
+      int draw = i - 2;
+      RubatoDesk x = Book.told("desk;piece up 1;player;slips 10;glad:" + glads[i] + ";");
+      due("as it would be", x.comes(0, 0, 10), draw);
+      int slip = Math.min(2, draw + 1);
+      due("one more, 2 at most", x.chance(0, 0, -slip, 0), 1);
+      due("not two more", x.chance(0, 0, -slip + 1, 0), 0);
+    }
+    RubatoDesk x = Book.told("desk;piece down 1;player;slips 10;may:not draw=0-1;");
+    due("a slip that the law forbids", x.chance(0, 0, 2, 0), 1);
+    for (int owes = 18; owes <= 20; owes++) {
+      x = Book.told("desk;piece up 1;player owes " + owes + ";slips 10;glad:0-(draw-1)*(draw-1);");
+      int end = Math.max(-20, -owes - 2);
+      due("a slip that the store forbids", x.chance(0, 0, end, 0), 1);
+      due("a slip that the store forbids", end == 20 ? 0 : x.chance(0, 0, end + 1, 0), 0);
+    }
+  }
+
+  /** "how likely it goes to the end, the STORE a GOAL at least then, in lowest terms" */
+  static void terms3ChanceInLowestTerms() {
+    long[][] terms = {{1, 1}, {9, 10}, {4, 5}, {7, 10}, {3, 5}, {1, 2}, {2, 5}, {3, 10}, {1, 5}, {1, 10}, {0, 1}};
+    for (int slips = 0; slips <= 10; slips++) {
+      RubatoDesk x = Book.told("desk;piece down 1;player;slips " + slips + ";");
+      due("above, slips " + slips, x.chance(0, 0, 2, 0), terms[slips][0]);
+      due("below, slips " + slips, x.chance(0, 0, 2, 1), terms[slips][1]);
+      due("sure, above", x.chance(0, 0, 1, 0), 1);
+      due("sure, below", x.chance(0, 0, 1, 1), 1);
+      due("never, above", x.chance(0, 0, 3, 0), 0);
+      due("never, below", x.chance(0, 0, 3, 1), 1);
+      for (int goal : new int[] {-20, 20}) due("goal " + goal, x.chance(0, 0, goal, 0), goal < 0 ? 1 : 0);
+      x = Book.told("desk;piece down 1 down 1;player;slips " + slips + ";may:1=2;");
+      due("it breaks off", x.chance(0, 0, -20, 0), 0);
+      due("it breaks off", x.chance(0, 0, -20, 1), 1);
+    }
+    RubatoDesk x = Book.told("desk;piece" + Book.times(12, " down 1") + ";player owes 20;slips 3;");
+    long above = 1;
+    for (int i = 0; i < 12; i++) above *= 7;
+    due("twelve bars, above", x.chance(0, 0, 4, 0), above);
+    due("twelve bars, below", x.chance(0, 0, 4, 1), 1000000000000L);
+    x = Book.told("desk;piece" + Book.times(12, " down 1") + ";player owes 20;slips 5;");
+    due("twelve bars, halves", x.chance(0, 0, 4, 0), 1);
+    due("twelve bars, halves", x.chance(0, 0, 4, 1), 4096);
+    due("all slip but none is lost", x.chance(0, 0, -8, 0), 1);
+    due("once not", x.chance(0, 0, -7, 0), 4095);
+    due("once not", x.chance(0, 0, -7, 1), 4096);
+  }
+
+  /** The draws of a term by the document's words, in longs: "x becomes 1103515245 x + 12345, it is x >>> 16" */
+  private static int[] draws(int seed, int n) {
+    int[] all = new int[n];
+    long x = seed & 0xFFFFFFFFL;
+    for (int i = 0; i < n; i++) {
+      x = (x * 1103515245L + 12345L) % 4294967296L;
+      all[i] = (int) (x / 65536);
+    }
+    return all;
+  }
+
+  /** A seed whose first draws leave what is wanted of them by 5, 5, 5, 9 or 10; any: NONE. */
+  private static int seedFor(int[] modulo, int[] wanted) {
+    for (int seed = -1000000; seed < 1000000; seed++) {
+      int[] d = draws(seed, modulo.length);
+      boolean is = true;
+      for (int i = 0; i < modulo.length && is; i++) is = wanted[i] == NONE || d[i] % modulo[i] == wanted[i];
+      if (is) return seed;
+    }
+    throw new IllegalStateException("no seed");
+  }
+
+  /** "DRAW modulo 5: 0 a FRIDAY; 1 .. as it comes; 2 best; 3 .. 1 and DRAW modulo 9 TICKS; 4 .. TEMPER DRAW modulo 10" */
+  static void terms3TermByDraws() {
+    RubatoDesk x = Book.told("desk;piece up 1 up 2 up 3;piece;piece;piece;" + Book.times(5, "player owes 18;"));
+    due("friday", x.term(seedFor(new int[] {5}, new int[] {0}), 1), 1);
+    due("friday", x.count(5), 31);
+    due("friday", x.count(6), 1);
+    x.undo(1);
+    for (int p = 0; p < 5; p++) {
+      due("play", x.term(seedFor(new int[] {5, 5, 5}, new int[] {1, p, 0}), 1), 1);
+      due("as it comes", x.player(p, 1), 2);
+      x.undo(1);
+      due("perform", x.term(seedFor(new int[] {5, 5, 5}, new int[] {2, p, 0}), 1), 1);
+      due("best: -2 2 2", x.player(p, 1), 8);
+      x.undo(1);
+      due("piece 4", x.term(seedFor(new int[] {5, 5, 5}, new int[] {1, p, 4}), 1), 0);
+      due("piece 4", x.term(seedFor(new int[] {5, 5, 5}, new int[] {2, p, 4}), 1), 0);
+      due("both one", x.term(seedFor(new int[] {5, 5, 5}, new int[] {3, p, p}), 1), 0);
+      for (int n = 0; n < 10; n++) {
+        due("temper", x.term(seedFor(new int[] {5, 5, 10}, new int[] {4, p, n}), 1), 1);
+        due("temper", x.player(p, 2), n);
+        x.undo(1);
+      }
+    }
+    due("lend 1", x.term(seedFor(new int[] {5, 5, 5, 9}, new int[] {3, 1, 0, 0}), 1), 1);
+    due("lend 1", x.player(1, 0), -19);
+    due("lent 1", x.player(0, 0), -17);
+    x.undo(1);
+    due("lend 3: it can't be", x.term(seedFor(new int[] {5, 5, 5, 9}, new int[] {3, 1, 0, 2}), 1), 0);
+    due("nothing can be undone", x.count(8), 0);
+    x = Book.told("desk;" + Book.times(5, "player has 10;"));
+    due("lend 9", x.term(seedFor(new int[] {5, 5, 5, 9}, new int[] {3, 4, 2, 8}), 1), 1);
+    due("lend 9", x.player(4, 0), 1);
+    due("lent 9", x.player(2, 0), 19);
+  }
+
+  /** "so many times (1 to 40)", "a SEED (x, an int ..)": the draws go over an int's bounds and come back. */
+  static void terms3TermTimesAndSeeds() {
+    RubatoDesk nobody = new RubatoDesk();
+    for (int times = -1; times <= 42; times++) {
+      int due = 0;
+      int at = 0;
+      int[] d = draws(77, 400);
+      for (int i = 0; i < times; i++) {
+        int sort = d[at++] % 5;
+        at += sort == 0 ? 0 : sort == 3 ? 3 : 2;
+        if (sort == 0) due++;
+      }
+      due("term of " + times, nobody.term(77, times), times < 1 || times > 40 ? Book.BAD : due);
+    }
+    for (int seed : new int[] {0, 1, -1, 12345, -12345, 0x7fff, 0x8000, 0xffff, 0x10000, Integer.MIN_VALUE, Integer.MAX_VALUE, Integer.MIN_VALUE + 1}) {
+      RubatoDesk x = Book.told("desk;piece up 3 down 1;piece down 2;player;player has 5;player owes 3;"), y = Book.told("desk;piece up 3 down 1;piece down 2;player;player has 5;player owes 3;");
+      int[] d = draws(seed, 400);
+      int at = 0, done = 0;
+      for (int i = 0; i < 40; i++) {
+        int sort = d[at++] % 5;
+        int a = sort == 0 ? 0 : d[at++] % 5, b = sort == 0 ? 0 : d[at++] % (sort == 4 ? 10 : 5), c = sort == 3 ? 1 + d[at++] % 9 : 0;
+        long got = sort == 0 ? y.friday() : sort == 1 ? y.play(a, b) : sort == 2 ? y.perform(a, b) : sort == 3 ? y.lend(a, b, c) : y.temper(a, b);
+        if (got > -90000000) done++;
+      }
+      due("term by " + seed, x.term(seed, 40), done);
+      due("one call", x.count(8), done > 0 ? 1 : 0);
+      for (int p = 0; p < 3; p++) for (int what = 0; what < 4; what++) due("player by " + seed, x.player(p, what), y.player(p, what));
+      due("week by " + seed, x.count(6), y.count(6));
+      due("undone as a whole", x.undo(1), 0);
+      due("week", x.count(6), 0);
+      due("joy", x.count(4), 0);
+    }
+  }
+
+  /** "TRAYS 0 to 3 are MISSING at first, or have 0 to 40 numbers of 8 bits (sort 0), 16 (1), 32 (2), 64 (3)." */
+  static void terms3Trays() {
+    RubatoDesk x = new RubatoDesk();
+    for (int tray = -1; tray <= 4; tray++) {
+      due("tray " + tray, x.does(tray), tray < 0 || tray > 3 ? Book.NO_SUCH : Book.MISSING);
+      due("write to " + tray, x.write(tray, 0, 0), tray < 0 || tray > 3 ? Book.NO_SUCH : Book.MISSING);
+    }
+    int[] bits = {8, 16, 32, 64};
+    for (int tray = 0; tray < 4; tray++) {
+      for (int n : new int[] {0, 1, 39, 40}) {
+        for (int sort = 0; sort < 4; sort++) {
+          due("numbers", x.numbers(tray, sort, n), 0);
+          for (int i = -1; i <= 40; i++) due("number " + i + " of " + n, x.write(tray, i, 5), i < 0 || i >= n ? Book.NO_NUMBER : 5);
+          long most = Long.MAX_VALUE >> 64 - bits[sort], least = -most - 1;
+          if (n > 0) {
+            due("the most", x.write(tray, 0, most), most);
+            due("one more", x.write(tray, 0, most + 1), least);
+            due("the least", x.write(tray, n - 1, least), least);
+            due("one less", x.write(tray, n - 1, least - 1), most);
+          }
+        }
+      }
+      for (int n : new int[] {-1, 41}) due("numbers " + n, x.numbers(tray, 0, n), Book.BAD);
+      for (int other = tray + 1; other < 4; other++) due("the others are still missing", x.does(other), Book.MISSING);
+    }
+    due("sort 4", x.numbers(0, 4, 1), Book.NO_SUCH);
+    due("sort -1", x.numbers(0, -1, 1), Book.NO_SUCH);
+  }
+
+  /** "IMAGES 0 to 1: THE DESK and what a call could bring back by UNDOING; nothing can be UNDONE behind (none at first)." */
+  static void terms3Images() {
+    RubatoDesk x = new RubatoDesk();
+    for (int i = -1; i <= 2; i++) due("none at first " + i, x.restore(i), i < 0 || i > 1 ? Book.NO_SUCH : Book.NOT_NOW);
+    for (int i = -1; i <= 2; i++) due("image " + i, x.image(i), i < 0 || i > 1 ? Book.NO_SUCH : 0);
+    x = Book.rich();
+    due("image 1", x.image(1), 0);
+    due("behind making one all can be undone still", x.count(8), 4);
+    String ahead = Book.look(x);
+    x.undo(4);
+    x.friday();
+    due("the tape is read away", x.desk(0), Book.FAULT - 2);
+    due("another desk", Book.tell(x, "desk;player has 7;"), 2);
+    x.friday();
+    due("restore", x.restore(1), 0);
+    due("nothing can be undone behind", x.count(8), 0);
+    due("nothing can be undone behind", x.undo(1), Book.BAD);
+    String[] was = ahead.split(" "), is = Book.look(x).split(" ");
+    was[8] = "0";
+    Book.alike("as it was", String.join(" ", is), String.join(" ", was));
+    due("image 0 is another one", x.restore(0), 0);
+    due("week", x.count(6), 0);
+    due("joy", x.count(4), 12);
+    due("store", x.player(2, 0), 20);
+    due("a deed", x.friday(), 2);
+    due("can be undone", x.undo(1), 0);
+  }
+
+  /** "Refused calls .. answer by a code: -99000000 and what is told below": no answer that is none goes so low. */
+  static void terms3NoAnswerIsLikeACode() {
+    RubatoDesk x = Book.told("desk;" + Book.times(4, "piece" + Book.times(12, " up 1") + ";") + "player;glad:0-999*999*999;");
+    due("the least of all rows", x.best(0, 0, -20, 0), -12000000);
+    due("the least of all orders", x.order(0, 15, -20, 0), -48000000);
+    due("the least of all joy", x.play(0, 0), -12000000);
+    x = Book.told("desk;piece;" + Book.times(5, "player has 20;"));
+    due("stores together", x.count(3), 100);
+    x = Book.told("desk;piece" + Book.times(12, " up 1") + ";" + Book.times(5, "player;") + "glad:0-999*999*999;may:draw=0;");
+    for (int p = 0; p < 5; p++) x.play(p, 0);
+    due("all joy", x.count(4), -49999995);
+    Book.fill(x, 0, 0);
+    due("all joy", x.judge(0, 3), -49999995);
+  }
 }
