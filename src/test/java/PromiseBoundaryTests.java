@@ -116,6 +116,20 @@ public final class PromiseBoundaryTests {
     due("the image stays", x.count(0), 4);
   }
 
+  /** "The first n bytes .. are THE DESK": whatever desks there were ahead of it, none of their lines is left. */
+  static void promise03DeskAgainAndAgain() {
+    String full = "desk;piece up 3 down 4 up 5;piece up 2;player has 9 temper 5;player owes 3 temper 1;player;slips 4;glad:draw*temper+last;may:draw>0;";
+    String[] plain = {"desk;piece up 1 up 1;player;player;", "desk;", "desk;piece;", "desk;player;", "desk;piece up 1;player has 1;may:1=1;", "desk;piece up 1;player has 1;glad:1;"};
+    RubatoDesk x = new RubatoDesk();
+    for (String text : plain) {
+      for (int ahead = 0; ahead < 4; ahead++) {
+        for (int i = 0; i < ahead; i++) due("a full one", Book.tell(x, full), 9);
+        Book.tell(x, text);
+        Book.alike("behind " + ahead + " full ones " + text, Book.look(x), Book.look(Book.told(text)));
+      }
+    }
+  }
+
   /** "(desk, too; all stays with a FAULT)" */
   static void promise03DeskWithAFault() {
     for (String text : new String[] {"", "desk", "desk;piece;piece up 1;player has 20;?", "desk;glad:5;may:1=2;slips 10;slips 11;", "desk;player;player;player;player;player;player;"}) {
@@ -298,6 +312,30 @@ public final class PromiseBoundaryTests {
       for (int i = 0; i < 3; i++) x.temper(0, (round + i) % 10);
       due("undo", x.undo(2), Math.min(round + 1, 8));
       due("temper", x.player(0, 2), round % 10);
+    }
+  }
+
+  /** "n calls .. are UNDONE": of each sort of call just that one, whatever was done ahead of it. */
+  static void promise14UndoOfEachSort() {
+    for (int sort = 0; sort < 7; sort++) {
+      RubatoDesk x = Book.told("desk;piece up 1;player has 9 temper 3;player has 9;");
+      Book.fill(x, 0, 1, 0, -1, 1105);
+      due("ahead of it", x.lend(1, 0, 2), 7);
+      due("ahead of it", x.friday(), 0);
+      if (sort == 0) x.play(0, 0);
+      if (sort == 1) x.perform(0, 0);
+      if (sort == 2) x.lend(0, 1, 5);
+      if (sort == 3) x.temper(0, 8);
+      if (sort == 4) x.friday();
+      if (sort == 5) x.does(0);
+      if (sort == 6) x.term(1, 40);
+      due("one more can be", x.count(8), 3);
+      due("undo, sort " + sort, x.undo(1), 2);
+      due("the store", x.player(0, 0), 11);
+      due("the other one's", x.player(1, 0), 7);
+      due("joy", x.count(4), 0);
+      due("temper", x.player(0, 2), 3);
+      due("week", x.count(6), 1);
     }
   }
 
@@ -549,6 +587,29 @@ public final class PromiseBoundaryTests {
     due("none to that goal", Book.told("desk;piece;piece;piece;piece;player has 19;").mostPieces(0, 20), 0);
   }
 
+  /** "for which there is AN ORDER with a GOAL": a STORE of just -20 behind it, too. */
+  static void promise25MostPiecesToTheVeryLeast() {
+    for (int owes = 10; owes <= 20; owes++) {
+      RubatoDesk x = Book.told("desk;" + Book.times(4, "piece up 1;") + "player owes " + owes + ";may:draw=2;");
+      int can = Math.min(4, (20 - owes) / 2);
+      due("who owes " + owes, x.mostPieces(0, -20), (1 << can) - 1);
+      due("who owes " + owes + ", to -19", x.mostPieces(0, -19), (1 << Math.min(4, (19 - owes) / 2)) - 1);
+    }
+  }
+
+  /** "PLAYER": the told one, by its number and its temper, the first and the last. */
+  static void promise25MostPiecesOfWhom() {
+    RubatoDesk x = Book.told("desk;piece up 1;piece up 1;player;" + Book.times(3, "player temper 4;") + "player temper 9;may:who=4 and temper=9 or who=0 and temper=0 and piece=1;");
+    for (int p = 0; p < 5; p++) {
+      due("most of " + p, x.mostPieces(p, -20), p == 4 ? 3 : p == 0 ? 2 : 0);
+      due("both by " + p, x.order(p, 3, -20, 0), p == 4 ? 4 : NO_ROW);
+      due("the second by " + p, x.order(p, 2, -20, 0), p == 4 || p == 0 ? 2 : NO_ROW);
+    }
+    due("temper", x.temper(4, 8), 9);
+    due("another temper", x.order(4, 3, -20, 0), NO_ROW);
+    due("another temper", x.mostPieces(4, -20), 0);
+  }
+
   /** "The PLAYER whom a PIECE makes GLADDEST by THE BEST ROW with the GOAL 0, the first. NONE: nobody has one" */
   static void promise26Gladdest() {
     due("all alike", Book.told("desk;piece;" + Book.times(5, "player;")).gladdest(0), 0);
@@ -583,6 +644,16 @@ public final class PromiseBoundaryTests {
     due("nothing is lent", x.player(0, 0), 20);
     due("by none", Book.told("desk;piece;player;player owes 1;").lends(0, 0, 1, 0), NONE);
     due("by just one", Book.told("desk;piece;player has 1;player owes 1;").lends(0, 0, 1, 0), 1);
+  }
+
+  /** "(0 to 40, as may be)": no more than till the other one has 20, though both are less glad by fewer. */
+  static void promise27LendsToOneNearlyFull() {
+    for (int has = 15; has <= 20; has++) {
+      RubatoDesk x = Book.told("desk;" + TWELVE + "piece;player has 10;player has " + has + ";");
+      due("who has " + has, x.lends(0, 1, 1, 0), 20 - has);
+      x = Book.told("desk;" + TWELVE + "piece;player has 10;player has " + has + ";glad:0-1;");
+      due("all alike, who has " + has, x.lends(0, 1, 1, 0), 0);
+    }
   }
 
   /** "what 0: GLADNESS, 1: the STORE then, 10 + k: .. (9: there is none such). NO ROW: there is none, the first one has none" */
@@ -700,6 +771,40 @@ public final class PromiseBoundaryTests {
     due("the first, ahead of it", x.next(0, 0, 3), 0);
   }
 
+  /** "of these TEMPERS": 0 and 9 count, others than these don't; "is least, the first": wherever it stands. */
+  static void promise32NextByTheTempers() {
+    // a bar that wants w is hurried by tempers 0 to w, and drawn out by those above w
+    String law = "player;glad:draw*(temper-want);";
+    int[][] wants = {{4, 3}, {3, 4}, {4, 5}, {5, 4}, {3, 5}, {5, 3}, {4, 3, 0}, {3, 4, 5}, {0, 3, 4}, {8, 0, 9}, {9, 8, 0}};
+    for (int[] w : wants) {
+      StringBuilder b = new StringBuilder("desk;piece;");
+      int least = 11, found = NONE;
+      for (int i = 0; i < w.length; i++) {
+        b.append("piece up ").append(w[i]).append(';');
+        int most = Math.max(w[i] + 1, 9 - w[i]);
+        if (most < least) {
+          least = most;
+          found = i + 1;
+        }
+      }
+      RubatoDesk x = Book.told(b + law);
+      Book.fill(x, 0, 0);
+      due("next by all, " + b, x.next(0, 0, 0), found);
+    }
+    RubatoDesk x = Book.told("desk;piece up 1;piece up 0;piece up 4;" + law);
+    Book.fill(x, 0, 0, -2);
+    due("0 and 1", x.tempers(0, 0, 0), 3);
+    due("told apart by 1 alone", x.next(0, 0, 0), 1);
+    x = Book.told("desk;piece up 0 up 2;piece up 0;piece up 1;" + law);
+    Book.fill(x, 0, 0, 2, -2);
+    due("1 and 2", x.tempers(0, 0, 0), 6);
+    due("told apart by 2 alone", x.next(0, 0, 0), 2);
+    x = Book.told("desk;piece up 7;piece up 7;piece up 8;" + law);
+    Book.fill(x, 0, 0, 2);
+    due("8 and 9", x.tempers(0, 0, 0), 768);
+    due("told apart by 2 alone", x.next(0, 0, 0), 2);
+  }
+
   /** "CHANCE with a GOAL, what 0: the number above, 1: below." */
   static void promise33Chance() {
     RubatoDesk x = Book.told("desk;piece down 1 down 1;piece;player;player has 20;player owes 20;slips 1;");
@@ -709,12 +814,10 @@ public final class PromiseBoundaryTests {
       due("below, " + goal, x.chance(0, 0, goal, 1), !can ? BAD : goal <= 2 || goal > 4 ? 1 : 100);
       due("no bars, above, " + goal, x.chance(0, 1, goal, 0), !can ? BAD : goal <= 0 ? 1 : 0);
       due("no bars, below, " + goal, x.chance(0, 1, goal, 1), !can ? BAD : 1);
-      // from 20 it would be drawn out by 0, and slips to 1; then by -1 or 0 again
-      due("from 20, " + goal, x.chance(1, 0, goal, 0), !can ? BAD : goal <= 19 ? goal <= 18 ? 1 : x.chance(1, 0, 19, 0) : x.chance(1, 0, 20, 0));
+      // from 20 it is drawn out by 0, by a slip by 1; from 19 by -1, by a slip by 0: to 20 by 9 in 10 either way
+      due("from 20, above, " + goal, x.chance(1, 0, goal, 0), !can ? BAD : goal == 20 ? 9 : 1);
+      due("from 20, below, " + goal, x.chance(1, 0, goal, 1), !can ? BAD : goal == 20 ? 10 : 1);
     }
-    due("from 20 to 20: no slip, or one that is made up", x.chance(1, 0, 20, 0), 9);
-    due("from 20 to 20", x.chance(1, 0, 20, 1), 10);
-    due("from 20 to 19", x.chance(1, 0, 19, 0), 1);
   }
 
   /** "by which CHANCE with the GOAL 0 is m in 100 (0 to 100) at least" */
@@ -730,6 +833,11 @@ public final class PromiseBoundaryTests {
     due("82", x.putBy(0, 0, 82), 3);
     due("99 in 100 just so", x.putBy(0, 0, 99), 3);
     due("100", x.putBy(0, 0, 100), 4);
+    x = Book.told("desk;piece" + Book.times(3, " up 1") + ";player;slips 1;glad:0-(draw-1)*(draw-1);");
+    due("972 in 1000 are 97 in 100", x.putBy(0, 0, 97), 4);
+    due("but not 98", x.putBy(0, 0, 98), 5);
+    due("999 in 1000 are 99 in 100", x.putBy(0, 0, 99), 5);
+    due("but not 100", x.putBy(0, 0, 100), 6);
     due("the most that can be needed", Book.told("desk;piece" + Book.times(10, " up 1") + ";player;").putBy(0, 0, 100), 20);
     due("more than can be", Book.told("desk;piece" + Book.times(11, " up 1") + ";player;").putBy(0, 0, 1), NO_ROW);
     due("the least", Book.told("desk;piece" + Book.times(10, " down 1") + ";player;").putBy(0, 0, 100), -20);
@@ -859,6 +967,29 @@ public final class PromiseBoundaryTests {
     due("temper", x.player(1, 2), 7);
     due("joy", x.player(0, 1), 12);
     due("barred", x.count(5), 2);
+  }
+
+  /** "All that is in an IMAGE is as it was": both, each with a desk of its own, whatever desks come behind them. */
+  static void promise39RestoreOfBoth() {
+    for (int first = 0; first < 2; first++) {
+      RubatoDesk x = new RubatoDesk();
+      for (int i = 0; i < 2; i++) {
+        due("desk", Book.tell(x, "desk;piece up " + (i + 1) + ";player has " + (i + 3) + ";slips " + i + ";"), 4);
+        due("image", x.image(i == 0 ? first : 1 - first), 0);
+      }
+      for (int more = 0; more < 6; more++) {
+        due("another desk", Book.tell(x, "desk;piece up 9 up 9;player has 9;player;slips 9;glad:9;may:1=2;"), 7);
+        int i = more % 2;
+        due("restore", x.restore(i == 0 ? first : 1 - first), 0);
+        due("wants", x.wants(0, 0), i + 1);
+        due("bars", x.count(2), 1);
+        due("players", x.count(1), 1);
+        due("slips", x.count(7), i);
+        due("store", x.player(0, 0), i + 3);
+        due("no laws", x.best(0, 0, -20, 0), 2 * (i + 1));
+        if (more == 3) for (int n = 0; n < 3; n++) due("some more", Book.tell(x, "desk;piece up " + n + ";"), 2);
+      }
+    }
   }
 
   /** "0 PIECES, 1 PLAYERS, 2 BARS together, 3 STORES together, .. NONE for others": the least and the greatest. */

@@ -599,6 +599,64 @@ public final class TermsBoundaryTests {
     due("not by what was played ahead", x.play(0, 1), 2);
   }
 
+  /** "last: by how much the BAR ahead was (0: the first one)": in all that goes through a PIECE. */
+  static void terms2LastInEachCall() {
+    // a first bar by 1, a second by 2, a third by none
+    RubatoDesk x = Book.told("desk;piece up 1 up 1;piece up 1 up 1 up 1;piece up 1 up 1;player has 10;player has 10;may:draw=last+1;");
+    due("comes", x.comes(0, 0, 0), 3);
+    due("its end", x.comes(0, 0, 1), 7);
+    due("comes", x.comes(0, 1, 2), 2);
+    due("best", x.best(0, 0, -20, 0), 3);
+    due("bar 0", x.best(0, 0, -20, 10), 1);
+    due("bar 1", x.best(0, 0, -20, 11), 2);
+    due("best of three", x.best(0, 1, -20, 0), Book.NO_ROW);
+    for (int end = -20; end <= 20; end++) {
+      due("rows to " + end, x.rows(0, 0, end), end == 7 ? 1 : 0);
+      due("rows of three to " + end, x.rows(0, 1, end), 0);
+    }
+    due("thriftiest", x.thriftiest(0, 0), 7);
+    due("squarest", x.squarest(0, 0), 7);
+    due("least", x.least(0, 0, -20, 3), -17);
+    due("least", x.least(0, 0, -20, 4), Book.NO_ROW);
+    due("two of two", x.order(0, 5, -20, 0), 6);
+    due("two of two", x.order(0, 5, 4, 0), 6);
+    due("most pieces", x.mostPieces(0, -20), 5);
+    due("reply", x.reply(0, 1, 0, 0), 3);
+    due("lends", x.lends(0, 0, 1, 2), 0);
+    due("lends", x.lends(0, 0, 1, 1), Book.NONE);
+    Book.fill(x, 0, 0, 9, 9);
+    due("heard", x.heard(0, 0, 0, 99), 1);
+    due("sure", x.sure(0, 0, 0, 99, 0), 1);
+    due("sure", x.sure(0, 0, 0, 99, 1), 2);
+    due("tempers", x.tempers(0, 0, 0), 1023);
+    due("chance", x.chance(0, 0, 7, 0), 1);
+    due("chance", x.chance(0, 0, 8, 0), 0);
+    due("putBy", x.putBy(0, 0, 1), 3);
+    due("perform", x.perform(0, 0), 3);
+    due("play", x.play(1, 0), 3);
+    // as last, by a slip 1 more: 0 and 0, 0 and 1, 1 and 1, 1 and 2
+    x = Book.told("desk;piece up 1 up 1;player;slips 1;glad:0-draw;may:draw=last or draw=last+1;");
+    long[][] due = {{0, 81, 100}, {-1, 9, 10}, {-2, 99, 100}, {-3, 1, 1}, {1, 0, 1}};
+    for (long[] d : due) {
+      due("chance to " + d[0], x.chance(0, 0, (int) d[0], 0), d[1]);
+      due("chance to " + d[0], x.chance(0, 0, (int) d[0], 1), d[2]);
+    }
+  }
+
+  /** "who: the PLAYER's number, temper: its temper": of the told PLAYER, whoever was asked for ahead of it. */
+  static void terms2WhoAndTemperTogether() {
+    RubatoDesk x = Book.told("desk;piece up 1;player;player;glad:draw*(who*2-1)*9+temper;");
+    for (int first = 0; first <= 9; first++) {
+      x.temper(0, first);
+      for (int second = 0; second <= 9; second++) {
+        x.temper(1, second);
+        due("0 with " + first, x.comes(0, 0, 0), 18 + first);
+        due("1 with " + second, x.comes(1, 0, 0), 18 + second);
+        due("1 with " + second, x.comes(1, 0, 10), 2);
+      }
+    }
+  }
+
   private static long gladBy(String law) {
     return Book.told("desk;piece up 1;player has 1;glad:" + law + ";").glad(0, 0, 0, 0, 0);
   }
