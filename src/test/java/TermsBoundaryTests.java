@@ -634,6 +634,9 @@ public final class TermsBoundaryTests {
     due("putBy", x.putBy(0, 0, 1), 3);
     due("perform", x.perform(0, 0), 3);
     due("play", x.play(1, 0), 3);
+    x = Book.told("desk;piece up 1 down 1;player;glad:draw*want+last-last;");
+    due("each bar by what it wants itself, best", x.best(0, 0, -20, 0), 4);
+    due("each bar by what it wants itself, as it comes", x.comes(0, 0, 0), 4);
     // as last, by a slip 1 more: 0 and 0, 0 and 1, 1 and 1, 1 and 2
     x = Book.told("desk;piece up 1 up 1;player;slips 1;glad:0-draw;may:draw=last or draw=last+1;");
     long[][] due = {{0, 81, 100}, {-1, 9, 10}, {-2, 99, 100}, {-3, 1, 1}, {1, 0, 1}};
