@@ -21,7 +21,7 @@ public final class OracleTests {
   private static final Map<String, int[]> TALLY = new TreeMap<>();
 
   public static void main(String[] args) {
-    int runs = args.length > 0 ? Integer.parseInt(args[0]) : 400;
+    int runs = args.length > 0 ? Integer.parseInt(args[0]) : 600;
     for (int seed = 0; seed < runs && wrong < 20; seed++) {
       new Run(seed).go();
     }
@@ -211,12 +211,12 @@ public final class OracleTests {
     Run(long seed) { this.seed = seed; r = new Random(seed * 7919 + 1); }
 
     void go() {
-      int calls = 0;
+      long ahead = compared;
       tellDesk();
-      while (calls < 400 && wrong < 20) {
+      // nothing is promised behind the 512th call, and a desk and what comes then are 80 at most
+      while (compared - ahead < 430 && wrong < 20) {
         if (r.nextInt(90) == 0) tellDesk();
         one();
-        calls++;
       }
     }
 

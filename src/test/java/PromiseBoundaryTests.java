@@ -1,3 +1,5 @@
+import java.util.function.Supplier;
+
 /**
  * The boundary cases that the promises name: a test for each sentence, named after its promise. What is refused, its
  * codes and their order stand in RefusedBoundaryTests.
@@ -31,13 +33,16 @@ public final class PromiseBoundaryTests {
 
   /** Objects have nothing in common. */
   static void promise01TwoNewObjects() {
-    RubatoDesk x = new RubatoDesk(), y = new RubatoDesk();
-    Book.tell(x, "desk;piece up 1;player has 4;");
-    x.friday();
-    x.image(0);
-    x.numbers(0, 0, 3);
-    x.feed(1, 2, 3, 4, 5);
-    Book.alike("the other one", Book.lookThrough(y), Book.lookThrough(new RubatoDesk()));
+    Supplier<RubatoDesk> beside = () -> {
+      RubatoDesk x = new RubatoDesk(), y = new RubatoDesk();
+      Book.tell(x, "desk;piece up 1;player has 4;");
+      x.friday();
+      x.image(0);
+      x.numbers(0, 0, 3);
+      x.feed(1, 2, 3, 4, 5);
+      return y;
+    };
+    Book.alike("the other one", Book.lookThrough(beside), Book.lookThrough(RubatoDesk::new));
   }
 
   /** "Twenty bytes come behind those on THE TAPE .. how many it has. -5: it would have more than 900." */
@@ -120,9 +125,9 @@ public final class PromiseBoundaryTests {
   static void promise03DeskAgainAndAgain() {
     String full = "desk;piece up 3 down 4 up 5;piece up 2;player has 9 temper 5;player owes 3 temper 1;player;slips 4;glad:draw*temper+last;may:draw>0;";
     String[] plain = {"desk;piece up 1 up 1;player;player;", "desk;", "desk;piece;", "desk;player;", "desk;piece up 1;player has 1;may:1=1;", "desk;piece up 1;player has 1;glad:1;"};
-    RubatoDesk x = new RubatoDesk();
     for (String text : plain) {
-      for (int ahead = 0; ahead < 4; ahead++) {
+      for (int ahead = 0; ahead < 5; ahead++) {
+        RubatoDesk x = new RubatoDesk();
         for (int i = 0; i < ahead; i++) due("a full one", Book.tell(x, full), 9);
         Book.tell(x, text);
         Book.alike("behind " + ahead + " full ones " + text, Book.look(x), Book.look(Book.told(text)));
@@ -133,15 +138,20 @@ public final class PromiseBoundaryTests {
   /** "(desk, too; all stays with a FAULT)" */
   static void promise03DeskWithAFault() {
     for (String text : new String[] {"", "desk", "desk;piece;piece up 1;player has 20;?", "desk;glad:5;may:1=2;slips 10;slips 11;", "desk;player;player;player;player;player;player;"}) {
-      RubatoDesk x = Book.rich(), twin = Book.rich();
-      x.desk(0);
-      twin.desk(0);
-      Book.feedText(x, text);
-      due("a fault", x.desk(text.length()) <= Book.FAULT - 1 ? 1 : 0, 1);
-      due("the tape is empty", x.count(9), 0);
       // the fault itself is the newer one: both read the same text last
-      x.desk(0);
-      Book.alike("all else behind " + text, Book.lookThrough(x), Book.lookThrough(twin));
+      Supplier<RubatoDesk> ahead = () -> {
+        RubatoDesk x = Book.rich();
+        x.desk(0);
+        return x;
+      };
+      Supplier<RubatoDesk> behind = () -> {
+        RubatoDesk x = ahead.get();
+        due("a fault", Book.tell(x, text) <= Book.FAULT - 1 ? 1 : 0, 1);
+        due("the tape is empty", x.count(9), 0);
+        x.desk(0);
+        return x;
+      };
+      Book.alike("all else behind " + text, Book.lookThrough(behind), Book.lookThrough(ahead));
     }
     due("how many lines", Book.tell(new RubatoDesk(), "desk;"), 1);
   }
@@ -354,8 +364,9 @@ public final class PromiseBoundaryTests {
 
   /** "the first place that can't be": the first, one amid, the last of 40, none of 40. */
   static void promise15JudgeFirstPlace() {
-    RubatoDesk x = Book.told("desk;piece up 1;player has 20;player has 3;");
+    String text = "desk;piece up 1;player has 20;player has 3;";
     for (int bad = 0; bad <= 40; bad++) {
+      RubatoDesk x = Book.told(text);
       due("numbers", x.numbers(0, 1, 40), 0);
       for (int i = 0; i < 40; i++) x.write(0, i, i == bad || i == bad + 2 ? 500 : i % 2 == 0 ? 1101 : -1);
       int can = bad;
@@ -367,6 +378,7 @@ public final class PromiseBoundaryTests {
       due("nothing is done", x.player(0, 0), 20);
       due("nothing is done", x.count(6), 0);
     }
+    RubatoDesk x = Book.told(text);
     due("numbers", x.numbers(0, 0, 40), 0);
     for (int i = 0; i < 40; i++) x.write(0, i, -1);
     due("forty fridays", x.judge(0, 0), NONE);

@@ -131,26 +131,34 @@ public final class Book {
     return part.repeat(n);
   }
 
-  // ---- a full look
+  // ---- a full look; nothing is promised of an object behind its 512th call, so each look must do with some 300
+
+  /** How much there is of all, and what a call could bring back by undoing. */
+  static String lookNow(RubatoDesk x) {
+    StringBuilder b = new StringBuilder();
+    for (int what = 0; what <= 10; what++) if (what != 9) say(b, x.count(what));
+    int players = x.count(1);
+    for (int p = 0; p < players; p++) for (int what = 0; what < 4; what++) say(b, x.player(p, what));
+    return b.toString();
+  }
 
   /** All that can be asked without a change. */
   static String look(RubatoDesk x) {
-    StringBuilder b = new StringBuilder();
-    for (int what = 0; what <= 10; what++) if (what != 9) say(b, x.count(what));
-    for (int p = 0; p < 5; p++) for (int what = 0; what < 4; what++) say(b, x.player(p, what));
-    for (int piece = 0; piece < 4; piece++) {
-      say(b, x.bars(piece));
-      for (int bar = 0; bar < 12; bar++) say(b, x.wants(piece, bar));
-      for (int p = 0; p < 5; p++) {
+    StringBuilder b = new StringBuilder(lookNow(x));
+    int pieces = x.count(0), players = x.count(1);
+    for (int piece = 0; piece < pieces; piece++) {
+      int bars = x.bars(piece);
+      say(b, bars);
+      for (int bar = 0; bar < bars; bar++) say(b, x.wants(piece, bar));
+      for (int p = 0; p < players; p++) {
         say(b, x.glad(p, piece, 0, 1, 1));
         say(b, x.comes(p, piece, 0));
-        say(b, x.comes(p, piece, 2));
         say(b, x.best(p, piece, 0, 0));
         say(b, x.chance(p, piece, 0, 0));
-        for (int tray = 0; tray < 4; tray++) {
-          say(b, x.heard(tray, p, piece, 99));
-          say(b, x.tempers(tray, p, piece));
-        }
+      }
+      for (int tray = 0; tray < 4; tray++) {
+        say(b, x.heard(tray, 0, piece, 99));
+        say(b, x.tempers(tray, 0, piece));
       }
     }
     for (int tray = 0; tray < 4; tray++) for (int what = 0; what < 4; what++) say(b, x.judge(tray, what));
@@ -161,17 +169,26 @@ public final class Book {
     b.append(n).append(' ');
   }
 
-  /** All that an object holds, its tape, fault, history, images and trays, too; it is of no use behind that. */
-  static String lookThrough(RubatoDesk x) {
-    StringBuilder b = new StringBuilder(look(x));
+  /** All that objects made alike hold, their tape, fault, history, images and trays, too: each is asked for one thing. */
+  static String lookThrough(Supplier<RubatoDesk> made) {
+    StringBuilder b = new StringBuilder(look(made.get()));
+    RubatoDesk x = made.get();
     b.append("\nfault ").append(x.fault(0)).append(' ').append(x.fault(1)).append(" tape ").append(x.count(9));
-    for (int i = 0; i < 11; i++) b.append("\nundo ").append(x.undo(1)).append(' ').append(look(x));
-    for (int tray = 0; tray < 4; tray++) b.append("\ndoes ").append(x.does(tray)).append(' ').append(look(x));
-    for (int i = 0; i < 2; i++) b.append("\nrestore ").append(x.restore(i)).append(' ').append(look(x));
+    for (int i = 0; i < 11; i++) b.append("\nundo ").append(x.undo(1)).append(' ').append(lookNow(x));
+    for (int tray = 0; tray < 4; tray++) {
+      x = made.get();
+      b.append("\ndoes ").append(x.does(tray)).append(' ').append(lookNow(x));
+    }
+    for (int i = 0; i < 2; i++) {
+      x = made.get();
+      b.append("\nrestore ").append(x.restore(i)).append(' ').append(look(x));
+    }
+    x = made.get();
     b.append("\ndesk ").append(x.desk(x.count(9))).append(' ').append(look(x));
+    x = made.get();
     for (int tray = 0; tray < 4; tray++) {
       int size = 0;
-      while (x.write(tray, size, Long.MAX_VALUE) == x.write(tray, 0, Long.MAX_VALUE) && size < 50) size++;
+      while (x.write(tray, size, 1) == 1) size++;
       b.append("\ntray ").append(size).append(' ').append(x.write(tray, 0, 0x7fffff7fff7fL));
     }
     return b.toString();
@@ -179,10 +196,13 @@ public final class Book {
 
   /** A refused call answers its code and changes nothing: the object is as a twin without the call. */
   static void refused(Supplier<RubatoDesk> made, String call, long code, Call refused) {
-    RubatoDesk x = made.get();
-    RubatoDesk twin = made.get();
-    due(call, refused.on(x), code);
-    alike("behind " + call + " the object", lookThrough(x), lookThrough(twin));
+    due(call, refused.on(made.get()), code);
+    Supplier<RubatoDesk> behind = () -> {
+      RubatoDesk x = made.get();
+      refused.on(x);
+      return x;
+    };
+    alike("behind " + call + " the object", lookThrough(behind), lookThrough(made));
   }
 
   /**
