@@ -636,6 +636,8 @@ public final class TermsBoundaryTests {
     due("play", x.play(1, 0), 3);
     x = Book.told("desk;piece up 1 down 1;player;glad:draw*want+last-last;");
     due("each bar by what it wants itself, best", x.best(0, 0, -20, 0), 4);
+    due("the first one drawn out", x.best(0, 0, -20, 10), 2);
+    due("the second one hurried", x.best(0, 0, -20, 11), -2);
     due("each bar by what it wants itself, as it comes", x.comes(0, 0, 0), 4);
     // as last, by a slip 1 more: 0 and 0, 0 and 1, 1 and 1, 1 and 2
     x = Book.told("desk;piece up 1 up 1;player;slips 1;glad:0-draw;may:draw=last or draw=last+1;");
@@ -657,6 +659,37 @@ public final class TermsBoundaryTests {
         due("1 with " + second, x.comes(1, 0, 0), 18 + second);
         due("1 with " + second, x.comes(1, 0, 10), 2);
       }
+    }
+  }
+
+  /** "In both laws: who .. temper .. last .. store": a word that both ask for is the same in both, BAR by BAR. */
+  static void terms2WordsThatBothLawsAskFor() {
+    RubatoDesk x = Book.told("desk;piece up 1 up 1;player;glad:last*10+draw;may:draw<2-last;");
+    due("last: 1, then 10 for it", x.best(0, 0, -20, 0), 11);
+    due("last: the first bar", x.best(0, 0, -20, 10), 1);
+    due("last: the second may be by 0 at most", x.best(0, 0, -20, 11), 0);
+    due("last, as it comes", x.comes(0, 0, 0), 11);
+    // behind -2 and -1 all five may be, behind 0 those below 2, behind 1 those below 1
+    Book.fill(x, 0, 0, 9, 9);
+    due("last: rows", x.heard(0, 0, 0, 99), 5 + 5 + 4 + 3);
+    x = Book.told("desk;piece up 1 up 1;player has 1;glad:store*draw;may:draw<store+1;");
+    due("store: -2, then 3 times 2", x.best(0, 0, -20, 0), 4);
+    due("store: the first bar", x.best(0, 0, -20, 10), -2);
+    due("store: the second", x.best(0, 0, -20, 11), 2);
+    due("store, as it comes", x.comes(0, 0, 0), 1);
+    due("store, as it comes: with none left all are alike", x.comes(0, 0, 11), -2);
+    x = Book.told("desk;piece up 1;player;player;glad:who*draw;may:draw<who+1;");
+    for (int i = 0; i < 2; i++) {
+      due("who: 0", x.comes(0, 0, 10), -2);
+      due("who: 1", x.comes(1, 0, 10), 1);
+      due("who: 0", x.best(0, 0, -20, 0), 0);
+      due("who: 1", x.best(1, 0, -20, 0), 1);
+    }
+    x = Book.told("desk;piece up 1;player;glad:temper*draw;may:draw<temper+1;");
+    for (int temper : new int[] {0, 1, 2, 0, 9}) {
+      x.temper(0, temper);
+      due("temper " + temper, x.comes(0, 0, 10), temper == 0 ? -2 : Math.min(temper, 2));
+      due("temper " + temper, x.best(0, 0, -20, 0), temper * Math.min(temper, 2));
     }
   }
 
