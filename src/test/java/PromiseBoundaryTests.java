@@ -1004,6 +1004,22 @@ public final class PromiseBoundaryTests {
     }
   }
 
+  /** "All that is in an IMAGE is as it was": one of no desk at all, too, with any number of desks behind it. */
+  static void promise39RestoreOfNoDesk() {
+    for (int i = 0; i < 2; i++) {
+      for (int desks = 1; desks <= 6; desks++) {
+        RubatoDesk x = new RubatoDesk();
+        x.friday();
+        due("image of no desk", x.image(i), 0);
+        for (int n = 0; n < desks; n++) due("desk", Book.tell(x, "desk;piece up 9;player has 9;slips 9;glad:9;"), 5);
+        due("restore", x.restore(i), 0);
+        for (int what = 0; what <= 10; what++) due("count " + what, x.count(what), what == 6 ? 1 : 0);
+        due("no player", x.player(0, 0), Book.NO_SUCH);
+        due("no piece", x.bars(0), Book.NO_SUCH);
+      }
+    }
+  }
+
   /** "0 PIECES, 1 PLAYERS, 2 BARS together, 3 STORES together, .. NONE for others": the least and the greatest. */
   static void promise40Count() {
     RubatoDesk x = Book.told("desk;" + Book.times(4, TWELVE) + Book.times(5, "player has 20;") + "slips 10;");
